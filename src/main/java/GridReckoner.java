@@ -23,8 +23,8 @@ public final class GridReckoner {
     private static final int DEPTH_MOST = 10;
     private static final int MANY = 1000000;
 
-    /** One more than there are cells: copy makes a formula before the one it replaces goes. */
-    private static final int SLOTS = CELLS + 1;
+    /** Those of names first; one more than there are cells: copy makes a formula before the old one goes. */
+    private static final int SLOTS = NAMES_MOST + CELLS + 1;
 
     private static final long UNIT = 10000;
     private static final long GREATEST = 90000000000L * UNIT;
@@ -57,10 +57,12 @@ public final class GridReckoner {
     private static final int ORDER = 1;
     private static final int TEXTS = 2;
     private static final int CHOICE = 3;
-    private static final int FOLD = 4;
-    private static final int TABLE = 5;
-    private static final int CALLING = 6;
-    private static final int FORM = 7;
+    private static final int JOINED = 4;
+    private static final int SEARCH = 5;
+    private static final int FOLD = 6;
+    private static final int TABLE = 7;
+    private static final int CALLING = 8;
+    private static final int FORM = 9;
 
     private static final int CALLS = 0;
     private static final int GIVEN = 1;
@@ -135,7 +137,8 @@ public final class GridReckoner {
         int length = takeTape();
         if (length > 0 && tape[0] == '=') {
             reader.read(tape, 0, length, 0);
-            return putFormula(r, c, 1, 1, false);
+            putFormula(r, c, 1, 1, false);
+            return reckon();
         }
         long constant = reader.constant(tape, length);
         needWhole(r, c, 1, 1);
@@ -161,7 +164,8 @@ public final class GridReckoner {
         needSheet(r, c, h, w);
         int length = takeTape();
         reader.read(tape, 0, length, 0);
-        return putFormula(r, c, h, w, true);
+        putFormula(r, c, h, w, true);
+        return reckon();
     }
 
     public int clear(int r, int c, int h, int w) throws IllegalArgumentException, IllegalStateException {
@@ -199,7 +203,10 @@ public final class GridReckoner {
         mover.aimLines(columns, k, n, false);
         needRoom(columns, lines, 0);
         sheet.openLines(columns, k, n);
-        return moveAll();
+        moveAll();
+        learnAll();
+        hangs.touchAll();
+        return reckon();
     }
 
     public int remove(boolean columns, int k, int n)
@@ -213,7 +220,10 @@ public final class GridReckoner {
         mover.aimLines(columns, k, n, true);
         needRoom(columns, k, n);
         sheet.closeLines(columns, k, n);
-        return moveAll();
+        moveAll();
+        learnAll();
+        hangs.touchAll();
+        return reckon();
     }
 
     public int name() throws UnsupportedOperationException, IndexOutOfBoundsException {
@@ -229,11 +239,12 @@ public final class GridReckoner {
         if (fresh) {
             k = sheet.addName(key);
         }
-        sheet.write(SLOTS + k, reader.shown, reader.shownLength);
+        sheet.write(k, reader.shown, reader.shownLength);
         if (fresh) {
             learnAll();
         } else {
-            learn(SLOTS + k);
+            reader.read(sheet.formula[k], 0, sheet.length[k], k + 1);
+            sheet.rest(k, reader.need, reader.named);
         }
         hangs.touchName(k);
         reckon();
@@ -341,7 +352,7 @@ public final class GridReckoner {
 
     /** All formulas but those in the n lines from k on, which are about to go. */
     private void needRoom(boolean columns, int k, int n) {
-        for (int slot = 0; slot < SLOTS + sheet.nameCount; slot++) {
+        for (int slot = 0; slot < sheet.slotEnd; slot++) {
             boolean stays = sheet.lives(slot) && !sheet.isIn(slot, columns, k, n);
             if (stays && mover.move(sheet.formula[slot], sheet.length[slot]) > SHOWN_MOST) {
                 throw new IndexOutOfBoundsException();
@@ -349,7 +360,7 @@ public final class GridReckoner {
         }
     }
 
-    private int putFormula(int r, int c, int h, int w, boolean spread) {
+    private void putFormula(int r, int c, int h, int w, boolean spread) {
         needWhole(r, c, h, w);
         if (reader.shownLength > SHOWN_MOST) {
             throw new IndexOutOfBoundsException();
@@ -361,7 +372,6 @@ public final class GridReckoner {
         sheet.shape(slot, r * COLUMNS + c, h, w, spread);
         sheet.occupy(slot);
         hangs.touch(r, c, h, w);
-        return reckon();
     }
 
     /** Goes in the order in which no cell is written before it has been read. */
@@ -375,16 +385,13 @@ public final class GridReckoner {
         }
     }
 
-    private int moveAll() {
-        for (int slot = 0; slot < SLOTS + sheet.nameCount; slot++) {
+    private void moveAll() {
+        for (int slot = 0; slot < sheet.slotEnd; slot++) {
             if (sheet.lives(slot)) {
                 int length = mover.move(sheet.formula[slot], sheet.length[slot]);
                 sheet.write(slot, mover.moved, length);
             }
         }
-        learnAll();
-        hangs.touchAll();
-        return reckon();
     }
 
     private void learnIn(int r, int c, int h, int w) {
@@ -392,24 +399,22 @@ public final class GridReckoner {
             for (int cell = row * COLUMNS + c; cell < row * COLUMNS + c + w; cell++) {
                 int slot = sheet.holder[cell];
                 if (slot >= 0 && sheet.corner[slot] == cell) {
-                    learn(slot);
+                    reader.read(sheet.formula[slot], 0, sheet.length[slot], 0);
+                    sheet.rest(slot, reader.need, reader.named);
                 }
             }
         }
     }
 
+    /** Notes what formulas rest on; the steps of names stay where the machine finds them. */
     private void learnAll() {
-        for (int slot = 0; slot < SLOTS + sheet.nameCount; slot++) {
+        for (int slot = 0; slot < sheet.slotEnd; slot++) {
             if (sheet.lives(slot)) {
-                learn(slot);
+                int zone = slot < NAMES_MOST ? slot + 1 : 0;
+                reader.read(sheet.formula[slot], 0, sheet.length[slot], zone);
+                sheet.rest(slot, reader.need, reader.named);
             }
         }
-    }
-
-    /** Notes what the formula rests on; a name's steps stay where the machine finds them. */
-    private void learn(int slot) {
-        reader.read(sheet.formula[slot], 0, sheet.length[slot], slot < SLOTS ? 0 : slot - SLOTS + 1);
-        sheet.rest(slot, reader.need, reader.named);
     }
 
     private int reckon() {
@@ -418,7 +423,8 @@ public final class GridReckoner {
             int slot = hangs.order[k];
             long v = CIRC_ERROR;
             if (!hangs.circular[slot]) {
-                machine.begin(slot);
+                reader.read(sheet.formula[slot], 0, sheet.length[slot], 0);
+                machine.begin();
                 v = machine.run(0, reader.ends[0], -1);
                 v = store.stopped ? CALC_ERROR : v;
             }
@@ -702,8 +708,9 @@ public final class GridReckoner {
             if (length > TEXT_MOST) {
                 return VALUE_ERROR;
             }
-            use(SPELLED, length);
-            long v = Val.text(made, length);
+            long v = ((long) made << 6 | length) << 3 | TEXT;
+            used[SPELLED] += length;
+            stopped = stopped || used[SPELLED] > LIMIT[SPELLED];
             made += stopped ? 0 : length;
             return v;
         }
@@ -756,34 +763,29 @@ public final class GridReckoner {
             return -1;
         }
 
-        /** Below 0, 0 or above as x comes before y, with it or behind; neither is an error. */
+        /** Below 0, 0 or above as x comes before y, with it or behind; an error comes behind all else. */
         private int compare(long x, long y) {
-            if (x == y) {
-                return 0;
-            }
             int left = (int) (x & 7);
             int right = (int) (y & 7);
+            if (left == TEXT && right == TEXT) {
+                return compareTexts((int) (x >> 9), (int) (x >> 3 & 63), (int) (y >> 9), (int) (y >> 3 & 63));
+            }
             if (left == NOTHING || right == NOTHING) {
                 long other = left == NOTHING ? y : x;
-                boolean alike = (other & 7) == TEXT ? Val.textLength(other) == 0 : other >> 3 == 0;
-                int above = other < 0 ? -1 : 1;
-                return alike ? 0 : left == NOTHING ? -above : above;
+                long size = (other & 7) == TEXT ? other >> 3 & 63 : other >> 3;
+                int above = Long.compare(size, 0);
+                return left == NOTHING ? -above : above;
             }
-            if (left != right) {
-                return left - right;
-            }
-            return left == TEXT ? compareTexts(x, y) : Long.compare(x, y);
+            return left != right ? left - right : Long.compare(x, y);
         }
 
-        private int compareTexts(long x, long y) {
-            int shorter = Math.min(Val.textLength(x), Val.textLength(y));
-            for (int k = 0; k < shorter; k++) {
-                int gap = bytes[Val.textFrom(x) + k] - bytes[Val.textFrom(y) + k];
-                if (gap != 0) {
-                    return gap;
+        private int compareTexts(int x, int xLength, int y, int yLength) {
+            for (int k = 0; k < xLength && k < yLength; k++) {
+                if (bytes[x + k] != bytes[y + k]) {
+                    return bytes[x + k] - bytes[y + k];
                 }
             }
-            return Val.textLength(x) - Val.textLength(y);
+            return xLength - yLength;
         }
 
         /** Texts of cells lie in the cell's own place, where they stay until it gets another value. */
@@ -889,18 +891,18 @@ public final class GridReckoner {
         /** Behind the number that begins there. */
         private static int numberEnd(byte[] s, int at, int to) {
             int p = at;
-            while (p < to && p < at + 11 && isDigit(s[p])) {
+            while (p < to && p < at + 11 && s[p] >= '0' && s[p] <= '9') {
                 p++;
             }
-            if (p == at || p + 1 >= to || s[p] != '.' || !isDigit(s[p + 1])) {
+            int point = p;
+            if (p == at || p >= to || s[p] != '.') {
                 return p;
             }
-            int stop = Math.min(to, p + 5);
             p++;
-            while (p < stop && isDigit(s[p])) {
+            while (p < to && p < point + 5 && s[p] >= '0' && s[p] <= '9') {
                 p++;
             }
-            return p;
+            return p > point + 1 ? p : point;
         }
 
         /** Times 10000. */
@@ -991,7 +993,7 @@ public final class GridReckoner {
         DIVIDE("/", NUMBERS, 2, 2, ""),
         NEGATE("-", NUMBERS, 1, 1, ""),
         PERCENT("%", NUMBERS, 1, 1, ""),
-        JOIN("&", TEXTS, 2, 2, ""),
+        JOIN("&", JOINED, 2, 2, ""),
         EQUAL("=", ORDER, 2, 2, ""),
         UNEQUAL("<>", ORDER, 2, 2, ""),
         LESS_EQUAL("<=", ORDER, 2, 2, ""),
@@ -1010,7 +1012,7 @@ public final class GridReckoner {
         LEFT("LEFT", TEXTS, 2, 2, ""),
         RIGHT("RIGHT", TEXTS, 2, 2, ""),
         MID("MID", TEXTS, 3, 3, ""),
-        FIND("FIND", TEXTS, 2, 2, ""),
+        FIND("FIND", SEARCH, 2, 2, ""),
         SUM("SUM", FOLD, 1, 8, ""),
         MIN("MIN", FOLD, 1, 8, ""),
         MAX("MAX", FOLD, 1, 8, ""),
@@ -1378,7 +1380,15 @@ public final class GridReckoner {
             int rows = 0;
             int inRow = 0;
             for (int guard = 0; guard < TAPE_MOST; guard++) {
-                emit(PUSH, 0, element(), null);
+                boolean minus = nextByte() == '-';
+                if (minus) {
+                    take(1);
+                }
+                if (minus && !Lexer.isDigit(nextByte())) {
+                    fail();
+                }
+                long v = literal();
+                emit(PUSH, 0, minus ? Val.number(-Val.load(v)) : v, null);
                 inRow++;
                 int b = nextByte();
                 boolean row = b == ';' || b == '}';
@@ -1397,17 +1407,6 @@ public final class GridReckoner {
             }
             takeClose('}');
             emit(PUSH_BRACES, rows << 12 | columns, 0, null);
-        }
-
-        private long element() {
-            if (nextByte() != '-') {
-                return literal();
-            }
-            take(1);
-            if (!Lexer.isDigit(nextByte())) {
-                fail();
-            }
-            return Val.number(-numeral());
         }
 
         /** A cell, a range, a truth, a function or a word. */
@@ -1786,10 +1785,10 @@ public final class GridReckoner {
         private final int[] holder = new int[CELLS];
         private final boolean[] filled = new boolean[CELLS];
         private int filledCount;
-        private final byte[][] formula = new byte[SLOTS + NAMES_MOST][];
-        private final int[][] need = new int[SLOTS + NAMES_MOST][];
-        private final int[] length = new int[SLOTS + NAMES_MOST];
-        private final int[] named = new int[SLOTS + NAMES_MOST];
+        private final byte[][] formula = new byte[SLOTS][];
+        private final int[][] need = new int[SLOTS][];
+        private final int[] length = new int[SLOTS];
+        private final int[] named = new int[SLOTS];
         private final int[] corner = new int[SLOTS];
         private final int[] high = new int[SLOTS];
         private final int[] wide = new int[SLOTS];
@@ -1798,16 +1797,18 @@ public final class GridReckoner {
         private final int[] twin = new int[SLOTS];
         private final int[] free = new int[SLOTS];
         private int freeCount;
+        private int slotEnd;
         private final long[] nameKey = new long[NAMES_MOST];
         private int nameCount;
 
         private Sheet(Store store) {
             this.store = store;
             Arrays.fill(holder, -1);
-            for (int k = 0; k < SLOTS; k++) {
+            freeCount = SLOTS - NAMES_MOST;
+            for (int k = 0; k < freeCount; k++) {
                 free[k] = SLOTS - 1 - k;
             }
-            freeCount = SLOTS;
+            slotEnd = NAMES_MOST;
         }
 
         private int nameOf(long key) {
@@ -1826,11 +1827,12 @@ public final class GridReckoner {
         }
 
         private boolean lives(int slot) {
-            return slot < SLOTS ? cells[slot] > 0 : slot - SLOTS < nameCount;
+            return slot < NAMES_MOST ? slot < nameCount : cells[slot] > 0;
         }
 
         private int takeSlot() {
             freeCount--;
+            slotEnd = Math.max(slotEnd, free[freeCount] + 1);
             return free[freeCount];
         }
 
@@ -1922,7 +1924,7 @@ public final class GridReckoner {
 
         /** Whether lines put in before k would cut an area. */
         private boolean splits(boolean columns, int k) {
-            for (int slot = 0; slot < SLOTS; slot++) {
+            for (int slot = NAMES_MOST; slot < slotEnd; slot++) {
                 int first = columns ? corner[slot] % COLUMNS : corner[slot] / COLUMNS;
                 int many = columns ? wide[slot] : high[slot];
                 if (cells[slot] > 0 && k > first && k < first + many) {
@@ -1933,7 +1935,7 @@ public final class GridReckoner {
         }
 
         private boolean isIn(int slot, boolean columns, int k, int n) {
-            if (slot >= SLOTS) {
+            if (slot < NAMES_MOST) {
                 return false;
             }
             int first = columns ? corner[slot] % COLUMNS : corner[slot] / COLUMNS;
@@ -1986,7 +1988,7 @@ public final class GridReckoner {
         }
 
         private void moveCorners(boolean columns, int k, int by) {
-            for (int slot = 0; slot < SLOTS; slot++) {
+            for (int slot = NAMES_MOST; slot < slotEnd; slot++) {
                 int first = columns ? corner[slot] % COLUMNS : corner[slot] / COLUMNS;
                 if (cells[slot] > 0 && first >= k) {
                     corner[slot] += columns ? by : by * COLUMNS;
@@ -1995,7 +1997,9 @@ public final class GridReckoner {
         }
 
         private void forgetTwins() {
-            Arrays.fill(twin, -1);
+            for (int slot = NAMES_MOST; slot < slotEnd; slot++) {
+                twin[slot] = -1;
+            }
         }
 
         /** An area's cells come one by one; its first one to come makes the slot that all of them get. */
@@ -2034,7 +2038,7 @@ public final class GridReckoner {
     /** Which formulas hang on what has changed, in an order in which each comes behind what it hangs on. */
     private static final class Hangs {
         private final Sheet sheet;
-        private final int[] reach = new int[SLOTS + NAMES_MOST];
+        private final int[] reach = new int[SLOTS];
         private final boolean[] touched = new boolean[SLOTS];
         private final int[] queue = new int[SLOTS];
         private int queued;
@@ -2058,7 +2062,7 @@ public final class GridReckoner {
         /** All that rests in these cells or hangs on them. */
         private void touch(int r, int c, int h, int w) {
             begin();
-            for (int slot = 0; slot < SLOTS; slot++) {
+            for (int slot = NAMES_MOST; slot < sheet.slotEnd; slot++) {
                 if (sheet.cells[slot] > 0 && (sheet.within(slot, r, c, h, w) || leans(slot, r, c, h, w))) {
                     enqueue(slot);
                 }
@@ -2068,7 +2072,7 @@ public final class GridReckoner {
 
         private void touchName(int k) {
             begin();
-            for (int slot = 0; slot < SLOTS; slot++) {
+            for (int slot = NAMES_MOST; slot < sheet.slotEnd; slot++) {
                 if (sheet.cells[slot] > 0 && (reach[slot] >> k & 1) != 0) {
                     enqueue(slot);
                 }
@@ -2078,7 +2082,7 @@ public final class GridReckoner {
 
         private void touchAll() {
             begin();
-            for (int slot = 0; slot < SLOTS; slot++) {
+            for (int slot = NAMES_MOST; slot < sheet.slotEnd; slot++) {
                 if (sheet.cells[slot] > 0) {
                     enqueue(slot);
                 }
@@ -2087,7 +2091,7 @@ public final class GridReckoner {
 
         private void begin() {
             queued = 0;
-            for (int slot = 0; slot < SLOTS; slot++) {
+            for (int slot = NAMES_MOST; slot < sheet.slotEnd; slot++) {
                 touched[slot] = false;
                 circular[slot] = false;
                 waiting[slot] = false;
@@ -2101,19 +2105,19 @@ public final class GridReckoner {
         private void closeNames() {
             int names = sheet.nameCount;
             for (int k = 0; k < names; k++) {
-                reach[SLOTS + k] = sheet.named[SLOTS + k] | 1 << k;
+                reach[k] = sheet.named[k] | 1 << k;
             }
             for (int by = 0; by < names; by++) {
                 for (int k = 0; k < names; k++) {
-                    if ((reach[SLOTS + k] >> by & 1) != 0) {
-                        reach[SLOTS + k] |= reach[SLOTS + by];
+                    if ((reach[k] >> by & 1) != 0) {
+                        reach[k] |= reach[by];
                     }
                 }
             }
-            for (int slot = 0; slot < SLOTS; slot++) {
+            for (int slot = NAMES_MOST; slot < sheet.slotEnd; slot++) {
                 reach[slot] = 0;
                 for (int k = 0; sheet.cells[slot] > 0 && k < names; k++) {
-                    reach[slot] |= (sheet.named[slot] >> k & 1) != 0 ? reach[SLOTS + k] : 0;
+                    reach[slot] |= (sheet.named[slot] >> k & 1) != 0 ? reach[k] : 0;
                 }
             }
         }
@@ -2129,7 +2133,7 @@ public final class GridReckoner {
                 int by = queue[k];
                 int r = sheet.corner[by] / COLUMNS;
                 int c = sheet.corner[by] % COLUMNS;
-                for (int slot = 0; slot < SLOTS; slot++) {
+                for (int slot = NAMES_MOST; slot < sheet.slotEnd; slot++) {
                     if (sheet.cells[slot] > 0 && !touched[slot]
                             && leans(slot, r, c, sheet.high[by], sheet.wide[by])) {
                         enqueue(slot);
@@ -2152,7 +2156,7 @@ public final class GridReckoner {
         private int needOf(int slot, int row) {
             int mask = sheet.need[slot][row];
             for (int names = reach[slot], k = 0; names != 0 && k < NAMES_MOST; names >>= 1, k++) {
-                mask |= (names & 1) != 0 ? sheet.need[SLOTS + k][row] : 0;
+                mask |= (names & 1) != 0 ? sheet.need[k][row] : 0;
             }
             return mask;
         }
@@ -2297,8 +2301,12 @@ public final class GridReckoner {
                     return numbers(fn, Val.toNumber(x), Val.toNumber(y));
                 case ORDER:
                     return Val.truth(holds(fn, store.compare(x, y)));
+                case JOINED:
+                    return store.join(x, y);
                 case TEXTS:
-                    return fn == Fn.JOIN ? store.join(x, y) : texts(fn, x, y, z);
+                    return texts(fn, store.textOf(x, 0), y, z);
+                case SEARCH:
+                    return find(store.textOf(x, 0), store.textOf(y, 1));
                 default:
                     long truth = Val.toTruth(x);
                     return truth == YES ? NO : truth == NO ? YES : truth;
@@ -2396,18 +2404,18 @@ public final class GridReckoner {
             return Val.number(rounded(a, step));
         }
 
-        private long texts(Fn fn, long x, long y, long z) {
-            long text = store.textOf(x, 0);
+        private long find(long part, long whole) {
+            int found = store.find(part, whole);
+            return found < 0 ? VALUE_ERROR : Val.number((found + 1) * UNIT);
+        }
+
+        private long texts(Fn fn, long text, long y, long z) {
             long length = Val.textLength(text);
             if (fn == Fn.LEN) {
                 return Val.number(length * UNIT);
             }
             if (fn == Fn.UPPER) {
                 return store.upper(text);
-            }
-            if (fn == Fn.FIND) {
-                int found = store.find(text, store.textOf(y, 1));
-                return found < 0 ? VALUE_ERROR : Val.number((found + 1) * UNIT);
             }
             long second = Val.toNumber(y);
             long third = Val.toNumber(z);
@@ -2430,6 +2438,7 @@ public final class GridReckoner {
         private final Store store;
         private final int[] picked = new int[ARRAY_MOST];
         private final int[] spare = new int[ARRAY_MOST];
+        private final long[] sortKey = new long[ARRAY_MOST];
         private int pickedCount;
         private long total;
         private int seen;
@@ -2673,34 +2682,31 @@ public final class GridReckoner {
         private void sort(long a) {
             pickedCount = Val.rows(a);
             for (int k = 0; k < pickedCount; k++) {
+                long first = store.item(a, k * Val.columns(a));
+                sortKey[k] = first == EMPTY ? ZERO : first;
                 picked[k] = k;
             }
             for (int width = 1; width < pickedCount; width *= 2) {
                 for (int from = 0; from < pickedCount; from += 2 * width) {
-                    merge(a, from, Math.min(from + width, pickedCount), Math.min(from + 2 * width, pickedCount));
+                    merge(from, Math.min(from + width, pickedCount), Math.min(from + 2 * width, pickedCount));
                 }
                 System.arraycopy(spare, 0, picked, 0, pickedCount);
             }
         }
 
-        private void merge(long a, int from, int middle, int to) {
+        private void merge(int from, int middle, int to) {
             int left = from;
             int right = middle;
             for (int k = from; k < to; k++) {
-                boolean takesRight = left >= middle || right < to && comesBefore(a, picked[right], picked[left]);
+                boolean takesRight = left >= middle;
+                if (left < middle && right < to) {
+                    long x = sortKey[picked[right]];
+                    takesRight = !Val.isError(x) && store.compare(x, sortKey[picked[left]]) < 0;
+                }
                 spare[k] = takesRight ? picked[right] : picked[left];
                 right += takesRight ? 1 : 0;
                 left += takesRight ? 0 : 1;
             }
-        }
-
-        private boolean comesBefore(long a, int row, int other) {
-            long x = store.at(a, row, 0);
-            long y = store.at(a, other, 0);
-            if (Val.isError(x) || Val.isError(y)) {
-                return !Val.isError(x);
-            }
-            return store.compare(x == EMPTY ? ZERO : x, y == EMPTY ? ZERO : y) < 0;
         }
 
         private void unique(long a) {
@@ -2723,7 +2729,8 @@ public final class GridReckoner {
             for (int j = 0; j < columns; j++) {
                 long x = store.item(a, row * columns + j);
                 long y = store.item(a, other * columns + j);
-                if (x != y && (Val.isError(x) || !same(x, y))) {
+                boolean error = Val.isError(x) || Val.isError(y);
+                if (x != y && (error || store.compare(x, y) != 0)) {
                     return false;
                 }
             }
@@ -2810,14 +2817,13 @@ public final class GridReckoner {
             lists = new Lists(store);
         }
 
-        private void begin(int slot) {
+        private void begin() {
             store.restart();
             height = 0;
             scopes = 0;
             for (int k = 0; k < NAMES_MOST; k++) {
                 known[k] = false;
             }
-            reader.read(sheet.formula[slot], 0, sheet.length[slot], 0);
         }
 
         private void push(long v) {

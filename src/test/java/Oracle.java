@@ -672,7 +672,7 @@ final class Oracle {
             return n.compareTo(GREATEST) > 0 ? new Token("BAD", "", at, null, null)
                     : new Token("NUM", text(n), at, m.group(), null);
         }
-        m = look("\"(?:[ !#-~]|\"\")*\"", s, at);
+        m = look("\"(?:[ !#-~]|\"\")*+\"", s, at);
         if (m != null) {
             return new Token("TEXT", m.group(), at, null, null);
         }
