@@ -137,7 +137,7 @@ public final class GridReckoner {
         int length = takeTape();
         if (length > 0 && tape[0] == '=') {
             reader.read(tape, 0, length, 0);
-            putFormula(r, c, 1, 1, false);
+            putFormula(r, c, 1, 1);
             return reckon();
         }
         long constant = reader.constant(tape, length);
@@ -164,7 +164,7 @@ public final class GridReckoner {
         needSheet(r, c, h, w);
         int length = takeTape();
         reader.read(tape, 0, length, 0);
-        putFormula(r, c, h, w, true);
+        putFormula(r, c, h, w);
         return reckon();
     }
 
@@ -360,7 +360,7 @@ public final class GridReckoner {
         }
     }
 
-    private void putFormula(int r, int c, int h, int w, boolean spread) {
+    private void putFormula(int r, int c, int h, int w) {
         needWhole(r, c, h, w);
         if (reader.shownLength > SHOWN_MOST) {
             throw new IndexOutOfBoundsException();
@@ -369,7 +369,7 @@ public final class GridReckoner {
         int slot = sheet.takeSlot();
         sheet.write(slot, reader.shown, reader.shownLength);
         sheet.rest(slot, reader.need, reader.named);
-        sheet.shape(slot, r * COLUMNS + c, h, w, spread);
+        sheet.shape(slot, r * COLUMNS + c, h, w);
         sheet.occupy(slot);
         hangs.touch(r, c, h, w);
     }
@@ -807,7 +807,7 @@ public final class GridReckoner {
         private static final int COLUMN_FIXED = 1 << 12;
         private static final int ROW_FIXED = 1 << 13;
         private static final int LENGTH_SHIFT = 14;
-        private static final long NONE = Long.MIN_VALUE;
+        private static final long NONE = -1L << 62;
 
         private static boolean isLetter(int b) {
             return b >= 'A' && b <= 'Z';
@@ -1792,7 +1792,6 @@ public final class GridReckoner {
         private final int[] corner = new int[SLOTS];
         private final int[] high = new int[SLOTS];
         private final int[] wide = new int[SLOTS];
-        private final boolean[] spread = new boolean[SLOTS];
         private final int[] cells = new int[SLOTS];
         private final int[] twin = new int[SLOTS];
         private final int[] free = new int[SLOTS];
@@ -1852,11 +1851,10 @@ public final class GridReckoner {
             named[slot] = names;
         }
 
-        private void shape(int slot, int cell, int h, int w, boolean area) {
+        private void shape(int slot, int cell, int h, int w) {
             corner[slot] = cell;
             high[slot] = h;
             wide[slot] = w;
-            spread[slot] = area;
         }
 
         private void occupy(int slot) {
@@ -2019,7 +2017,7 @@ public final class GridReckoner {
                 copy = takeSlot();
                 twin[slot] = copy;
                 write(copy, mover.moved, mover.move(formula[slot], length[slot]));
-                shape(copy, corner[slot] + to - from, high[slot], wide[slot], spread[slot]);
+                shape(copy, corner[slot] + to - from, high[slot], wide[slot]);
             }
             wipe(to);
             putHolder(to, copy);
@@ -2308,9 +2306,12 @@ public final class GridReckoner {
                 case SEARCH:
                     return find(store.textOf(x, 0), store.textOf(y, 1));
                 default:
-                    long truth = Val.toTruth(x);
-                    return truth == YES ? NO : truth == NO ? YES : truth;
+                    return opposite(Val.toTruth(x));
             }
+        }
+
+        private static long opposite(long truth) {
+            return truth == YES ? NO : truth == NO ? YES : truth;
         }
 
         private static boolean holds(Fn fn, int order) {
@@ -2497,12 +2498,10 @@ public final class GridReckoner {
             switch (fn) {
                 case SUM:
                 case AVERAGE:
-                    bound(total + n);
+                    hold(Val.number(total + n));
                     break;
                 case PRODUCT:
-                    long product = seen == 1 ? n << 3 | NUMBER : Ops.product(over ? 0 : total, n);
-                    over = over || product == NUM_ERROR;
-                    total = Val.load(product);
+                    hold(Ops.product(seen == 1 ? UNIT : total, n));
                     break;
                 case MIN:
                     total = seen == 1 ? n : Math.min(total, n);
@@ -2519,9 +2518,10 @@ public final class GridReckoner {
             }
         }
 
-        private void bound(long sum) {
-            over = over || sum > GREATEST || sum < -GREATEST;
-            total = over ? 0 : sum;
+        /** A total that was once too great stays so. */
+        private void hold(long v) {
+            over = over || Val.isError(v);
+            total = over ? 0 : Val.load(v);
         }
 
         private long folded(Fn fn) {
@@ -2782,7 +2782,7 @@ public final class GridReckoner {
             for (int k = 0; k < Val.rows(a) * Val.columns(a); k++) {
                 long v = store.item(numbers, k);
                 if (Val.tag(v) == NUMBER && same(x, store.item(a, k))) {
-                    bound(total + Val.load(v));
+                    hold(Val.number(total + Val.load(v)));
                 }
             }
             return over ? NUM_ERROR : Val.number(total);
