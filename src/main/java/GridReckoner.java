@@ -343,7 +343,8 @@ public final class GridReckoner {
         for (int row = r; row < r + h; row++) {
             for (int cell = row * COLUMNS + c; cell < row * COLUMNS + c + w; cell++) {
                 int slot = sheet.holder[cell];
-                if (slot >= 0 && mover.move(sheet.formula[slot], sheet.length[slot]) > SHOWN_MOST) {
+                boolean first = slot >= 0 && sheet.corner[slot] == cell;
+                if (first && mover.move(sheet.formula[slot], sheet.length[slot]) > SHOWN_MOST) {
                     throw new IndexOutOfBoundsException();
                 }
             }
@@ -653,7 +654,8 @@ public final class GridReckoner {
                 return CALC_ERROR;
             }
             if (top + n > items.length) {
-                items = Arrays.copyOf(items, Math.max(items.length * 2, top + n));
+                int more = Math.max(items.length * 2, top + n);
+                items = Arrays.copyOf(items, Math.min(more, LIMIT[ELEMENTS]));
             }
             long v = Val.array(top, rows, columns);
             top += n;
@@ -1070,8 +1072,9 @@ public final class GridReckoner {
 
     /** Reads a formula: writes it as it is shown, notes what it rests on, and makes the machine's steps of it. */
     private static final class Reader {
-        private static final int TAPE_STEPS = 4096;
-        private static final int NAME_STEPS = 512;
+        /** A formula makes fewer than five steps of four bytes. */
+        private static final int TAPE_STEPS = TAPE_MOST / 4 * 5;
+        private static final int NAME_STEPS = SHOWN_MOST / 4 * 5 + 5;
         private static final int STEPS = TAPE_STEPS + NAMES_MOST * NAME_STEPS;
 
         private final Store store;
@@ -1129,11 +1132,11 @@ public final class GridReckoner {
 
         /** Answers where the word of a name ends that begins the tape. */
         private int readNameWord(byte[] bytes, int length) {
+            source = bytes;
             at = 0;
-            int stop = Lexer.wordEnd(bytes, 0, length);
-            boolean word = stop > 0 && Lexer.cell(bytes, 0, length) < 0
-                    && !Lexer.equal(bytes, 0, stop, "TRUE") && !Lexer.equal(bytes, 0, stop, "FALSE");
-            if (!word || Fn.of(bytes, 0, stop) != null) {
+            to = length;
+            int stop = wordHere();
+            if (stop == 0 || Fn.of(bytes, 0, stop) != null) {
                 fail();
             }
             return stop;
@@ -1187,8 +1190,8 @@ public final class GridReckoner {
             return here;
         }
 
-        private void takeOpen() {
-            if (nextByte() != '(' && nextByte() != '{' || open == OPEN_MOST) {
+        private void takeOpen(char opening) {
+            if (nextByte() != opening || open == OPEN_MOST) {
                 fail();
             }
             open++;
@@ -1269,7 +1272,7 @@ public final class GridReckoner {
         private boolean called() {
             boolean cell = atom();
             for (int guard = 0; nextByte() == '(' && guard < TAPE_MOST; guard++) {
-                takeOpen();
+                takeOpen('(');
                 int n = 0;
                 if (nextByte() == ')') {
                     takeClose(')');
@@ -1307,7 +1310,7 @@ public final class GridReckoner {
         private boolean atom() {
             int b = nextByte();
             if (b == '(') {
-                takeOpen();
+                takeOpen('(');
                 boolean cell = level(0);
                 takeClose(')');
                 return cell;
@@ -1375,7 +1378,7 @@ public final class GridReckoner {
         }
 
         private void braces() {
-            takeOpen();
+            takeOpen('{');
             int columns = 0;
             int rows = 0;
             int inRow = 0;
@@ -1415,13 +1418,10 @@ public final class GridReckoner {
             if (cell >= 0) {
                 return cellOrRange(cell);
             }
-            int stop = Lexer.wordEnd(source, at, to);
-            if (Lexer.equal(source, at, stop, "TRUE") || Lexer.equal(source, at, stop, "FALSE")) {
+            int stop = wordHere();
+            if (stop == at) {
                 emit(PUSH, 0, literal(), null);
                 return false;
-            }
-            if (stop == at) {
-                fail();
             }
             int from = at;
             take(stop - at);
@@ -1465,7 +1465,7 @@ public final class GridReckoner {
         }
 
         private void function(Fn fn) {
-            takeOpen();
+            takeOpen('(');
             switch (fn) {
                 case IF:
                     ifForm();
@@ -1648,26 +1648,30 @@ public final class GridReckoner {
         private int move(byte[] s, int to) {
             length = 0;
             int p = 0;
-            while (p < to) {
+            for (int guard = 0; p < to && guard < to; guard++) {
                 int cell = Lexer.cell(s, p, to);
-                int stop = p + 1;
                 if (cell >= 0) {
-                    stop = p + Lexer.lengthOf(cell);
-                    int other = stop < to && s[stop] == ':' ? Lexer.cell(s, stop + 1, to) : -1;
-                    if (other >= 0) {
-                        stop += 1 + Lexer.lengthOf(other);
-                        moveRange(cell, other);
-                    } else {
-                        moveCell(cell);
-                    }
+                    p = moveReference(s, p, to, cell);
                 } else {
-                    stop = otherEnd(s, p, to);
+                    int stop = otherEnd(s, p, to);
                     System.arraycopy(s, p, moved, length, stop - p);
                     length += stop - p;
+                    p = stop;
                 }
-                p = stop;
             }
             return length;
+        }
+
+        /** Answers where the cell ends that begins there, or the range that begins with it. */
+        private int moveReference(byte[] s, int at, int to, int cell) {
+            int stop = at + Lexer.lengthOf(cell);
+            int other = stop < to && s[stop] == ':' ? Lexer.cell(s, stop + 1, to) : -1;
+            if (other < 0) {
+                moveCell(cell);
+                return stop;
+            }
+            moveRange(cell, other);
+            return stop + 1 + Lexer.lengthOf(other);
         }
 
         /** Behind what stands there and is no cell: letters within it are none of its own. */
@@ -1778,7 +1782,7 @@ public final class GridReckoner {
         }
     }
 
-    /** What the cells hold. Formulas lie in slots that their cells name; those of names in slots behind. */
+    /** What the cells hold. Formulas lie in slots: the first ones are for names, the others are told by their cells. */
     private static final class Sheet {
         private final Store store;
         private final long[] values = new long[CELLS];

@@ -23,6 +23,28 @@ final class FormulaMaker {
         return chance.nextInt(10) == 0 ? broken(s) : s + blank();
     }
 
+    /** Long or deep ones, about as long and as deep as may be. */
+    String stretched() {
+        StringBuilder b = new StringBuilder("=");
+        if (chance.nextBoolean()) {
+            String[] chain = {"+1", "*A1", "&X", "-CHOOSE(1,1)", "+IF(1,1)", "%", "+LAMBDA(1)", "+X()", "+{1,2,3}", "<1",
+                "+-+-1", " + 1.50", "+A1:B2", "+$C$3"};
+            String one = pick(chain);
+            int bytes = chance.nextInt(4) == 0 ? chance.nextInt(1900) : 230 + chance.nextInt(30);
+            b.append("1");
+            while (b.length() < bytes) {
+                b.append(chance.nextInt(5) == 0 ? pick(chain) : one);
+            }
+            return b.toString();
+        }
+        String[] opens = {"(", "ABS(", "IF(1,", "CHOOSE(1,", "LET(X,1,", "LAMBDA(X,", "SUM(1,", "X(", "1+(", "-("};
+        int deep = chance.nextInt(16);
+        for (int k = 0; k < deep; k++) {
+            b.append(pick(opens));
+        }
+        return b.append(chance.nextBoolean() ? "{1,2}" : "X()").append(")".repeat(deep)).toString();
+    }
+
     String broken(String s) {
         int at = chance.nextInt(s.length() + 1);
         int behind = Math.min(s.length(), at + chance.nextInt(3));

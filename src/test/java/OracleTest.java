@@ -78,7 +78,7 @@ public final class OracleTest {
     private void setSome() {
         int r = chance.nextInt(9);
         int c = chance.nextInt(6);
-        String s = chance.nextInt(3) == 0 ? maker.constant() : maker.formula();
+        String s = chance.nextInt(3) == 0 ? maker.constant() : chance.nextInt(12) == 0 ? maker.stretched() : maker.formula();
         tape(s);
         edit("set(" + r + ", " + c + ")", s, () -> grid.set(r, c), () -> oracle.set(r, c));
     }
