@@ -71,7 +71,7 @@ public final class LimitsTest {
                 "=LET(A_,SEQUENCE(2000,1,1,1),B_,A_,C_,A_,D_,A_,E_,A_,LET(F_,A_,G_,A_,H_,A_,I_,A_,J_,A_,LET(K_,{1},1)))");
         Bench t = new Bench("100000 bytes");
         String fifty = "\"" + "x".repeat(50) + "\"";
-        both(t, "=ROWS(LEFT(" + fifty + ",SEQUENCE(2000,1,50,0)))", "N:2000", "=ROWS(LEFT(" + fifty + ",SEQUENCE(2000,1,50,0)))&1&\"\"");
+        both(t, "=ROWS(LEFT(" + fifty + ",SEQUENCE(2000,1,50,0)))", "N:2000", "=ROWS(LEFT(" + fifty + ",SEQUENCE(2000,1,50,0)))+LEN(UPPER(1))");
         both(t, "=ROWS(SEQUENCE(2000,1,0,0)&" + fifty.replace("xx\"", "x\"") + ")", "N:2000", "=ROWS(SEQUENCE(2001,1,0,0)&" + fifty.replace("xx\"", "x\"") + ")");
         t.with("Z80", "=ROWS(SEQUENCE(2000,1,0,0)&" + fifty + "&\"" + "y".repeat(11) + "\")");
         t.dueValue("Z80", "E:#CALC!");
