@@ -6,7 +6,7 @@ final class Bench {
     private static int wrong;
     private static int checks;
     private final String title;
-    final GridReckoner grid = new GridReckoner();
+    final Grid grid = new Grid();
 
     interface Call {
         long answer();
@@ -22,6 +22,10 @@ final class Bench {
 
     static int column(String cell) {
         return cell.charAt(0) - 'A';
+    }
+
+    static String cell(int r, int c) {
+        return (char) ('A' + c) + String.valueOf(r + 1);
     }
 
     /** The answer, or the name of what is thrown. */
@@ -94,7 +98,8 @@ final class Bench {
         return this;
     }
 
-    private String result(int length) {
+    /** The first bytes of the result. */
+    String result(int length) {
         StringBuilder b = new StringBuilder();
         for (int i = 0; i < length; i += 8) {
             byte[] eight = ByteBuffer.allocate(8).putLong(grid.word(i)).array();
@@ -115,7 +120,8 @@ final class Bench {
     }
 
     void dueValue(String cell, String want) {
-        due("value of " + cell + " (" + content(cell) + ")", value(cell), want);
+        String got = value(cell);
+        due("value of " + cell + (got.equals(want) ? "" : " (" + content(cell) + ")"), got, want);
     }
 
     void dueContent(String cell, String want) {

@@ -164,10 +164,8 @@ public final class FormulasTest {
     }
 
     public static void main(String[] args) {
-        Bench b = new Bench("formulas");
-        b.with(SHEET);
         for (String[] x : DUE) {
-            b.with("Z80", x[0]);
+            Bench b = new Bench("formulas").with(SHEET).with("Z80", x[0]);
             b.dueValue("Z80", x[1]);
         }
         hanging();

@@ -89,6 +89,76 @@ public final class LimitsTest {
         both(e, part + "+ROWS(MAP(1,LAMBDA(P,{1})))", "N:298702", part + "+ROWS(MAP({1},LAMBDA(P,1)))");
     }
 
+    private static void nested() {
+        Bench b = new Bench("what is within one another");
+        String ten = "LAMBDA(".repeat(10) + "7" + ")()".repeat(10);
+        both(b, "=" + ten, "N:7", "=LAMBDA(" + ten + ")()");
+        both(b, "=" + ten + "+" + ten, "N:14", "=" + ten + "+LAMBDA(" + ten + ")()");
+        b.name("F=LAMBDA(X,X+1)");
+        b.with("Z80", "=" + "F(".repeat(12) + "0" + ")".repeat(12));
+        b.dueValue("Z80", "N:12");
+        b.name("DEEP=LAMBDA(N,IF(N<2,SUM(MAP({1,2},LAMBDA(X,X))),DEEP(N-1)))");
+        both(b, "=DEEP(9)", "N:3", "=DEEP(10)");
+        b.name("FOLD=LAMBDA(N,IF(N<2,REDUCE(0,{1,2},LAMBDA(X,Y,X+Y)),FOLD(N-1)))");
+        both(b, "=FOLD(9)", "N:3", "=FOLD(10)");
+        b.name("GRID=LAMBDA(N,IF(N<2,SUM(MAKEARRAY(1,2,LAMBDA(X,Y,Y))),GRID(N-1)))");
+        both(b, "=GRID(9)", "N:3", "=GRID(10)");
+    }
+
+    /** Each formula has limits of its own, and so has an area; a name's share is that of the formula it is used in. */
+    private static void eachFormula() {
+        String calls = "SUM(MAP(SEQUENCE(400,1,1,0),LAMBDA(X,X)))";
+        Bench b = new Bench("each formula");
+        b.with("A1", "=" + calls, "A2", "=" + calls + "+A1");
+        b.dueValue("A1", "N:400");
+        b.dueValue("A2", "N:800");
+        b.area("B1", 2, 2, "=" + calls);
+        b.dueValue("C2", "N:400");
+        b.name("K=" + calls);
+        b.with("A3", "=K", "A4", "=K+A3", "A5", "=K+K", "A6", "=K+LAMBDA(0)()");
+        b.dueValue("A3", "N:400");
+        b.dueValue("A4", "N:800");
+        b.dueValue("A5", "E:#CALC!");
+        b.dueValue("A6", "E:#CALC!");
+        b.with("A7", "=IFERROR(A6,3)");
+        b.dueValue("A7", "N:3");
+    }
+
+    /** What has another number of parameters is no call, but its E have been worked out. */
+    private static void noCalls() {
+        String many = "MAP(SEQUENCE(400,1,1,0),LAMBDA(X,X))";
+        Bench b = new Bench("no calls");
+        both(b, "=SUM(" + many + ")+COUNT(LAMBDA(1)(2),5(6))", "N:400", "=SUM(" + many + ")+COUNT(LAMBDA(1)())");
+        both(b, "=COUNT(" + many + ",LAMBDA(1)(2))", "N:400", "=COUNT(" + many + ",LAMBDA(1)(LAMBDA(2)()))");
+        both(b, "=COUNT(" + many + ",5(2))", "N:400", "=COUNT(" + many + ",5(LAMBDA(2)()))");
+        both(b, "=COUNT(" + many + ",IF(TRUE,1,LAMBDA(2)()))", "N:401", "=COUNT(" + many + ",IF(TRUE,LAMBDA(2)(),1))");
+    }
+
+    private static void operatorsAndFunctions() {
+        Bench b = new Bench("2080 that functions would give");
+        String tall = "SEQUENCE(80,1,1,0)";
+        String fits = "SEQUENCE(1,26,1,0)";
+        String wide = "SEQUENCE(1,27,1,0)";
+        String[] twos = {"%s+%s", "%s=%s", "%s&%s", "ROUND(%s,%s)", "MOD(%s,%s)", "LEFT(%s,%s)", "FIND(%s,%s)", "MID(%s,%s,1)", "IF(%s,%s)",
+            "IFERROR(%s,%s)", "MID(%s,1,%s)", "IF(%s,1,%s)"};
+        for (String two : twos) {
+            both(b, "=COUNTA(" + String.format(two, tall, fits) + ")", "N:2080", "=COUNTA(" + String.format(two, tall, wide) + ")");
+        }
+        Bench w = new Bench("20000 that words get, of arrays alone");
+        String nine = "=LET(X,SEQUENCE(2000,1,1,1),LAMBDA(A_,B_,C_,D_,E_,LAMBDA(F_,G_,H_,I_,1)(X,X,X,X))(X,X,X,X,X))";
+        both(w, nine + "+LET(Y,5,Y)", "N:6", nine + "+SUM(LET(Y,{5},Y))");
+        both(w, nine + "+LAMBDA(Y,Y)(5)", "N:6", nine + "+SUM(LAMBDA(Y,Y)({5}))");
+        Bench t = new Bench("100000 bytes that functions make");
+        String fifty = "\"" + "x".repeat(50) + "\"";
+        for (String one : new String[] {"UPPER(%s)", "LEFT(%s,50)", "RIGHT(%s,50)", "MID(%s,1,50)", "%s&\"\"", "\"\"&%s"}) {
+            String all = "=COUNTA(" + String.format(one, "IF(SEQUENCE(2000,1,1,0)," + fifty + ")") + ")";
+            both(t, all + "+LEN(\"abc\")+LEN(12)", "N:2005", all + "+LEN(1&\"\")");
+            both(t, all + "+LEN(\"\"&\"\")", "N:2000", all + "+LEN(LEFT(12,1))");
+        }
+        both(t, "=COUNT(SEQUENCE(2080,1,1,0)&\"" + "x".repeat(60) + "\")", "N:0",
+                "=COUNT(SEQUENCE(2080,1,1,0)&\"" + "x".repeat(59) + "\")");
+    }
+
     private static void areas() {
         Bench b = new Bench("all of an area");
         b.area("A1", 2, 2, "=IFERROR(SEQUENCE(2081,1,1,1),1)");
@@ -102,6 +172,10 @@ public final class LimitsTest {
         depth();
         fan();
         elements();
+        nested();
+        eachFormula();
+        noCalls();
+        operatorsAndFunctions();
         areas();
         Bench.end("LimitsTest");
     }

@@ -12,8 +12,8 @@ public final class PromisesTest {
     }
 
     private static void newObject() {
-        Bench b = new Bench("1 a new object");
         for (int r = 0; r < 80; r++) {
+            Bench b = new Bench("1 a new object");
             for (int c = 0; c < 26; c++) {
                 int row = r;
                 int column = c;
@@ -22,6 +22,7 @@ public final class PromisesTest {
                 b.due("show", () -> b.grid.show(row, column, true), 0);
             }
         }
+        Bench b = new Bench("1 a new object");
         b.due("tape", () -> b.grid.count(0), 0);
         b.due("result", () -> b.grid.count(1), 0);
         b.due("cells", () -> b.grid.count(2), 0);
@@ -66,11 +67,11 @@ public final class PromisesTest {
     }
 
     private static void set() {
-        Bench b = new Bench("4 set");
         String[] kept = {"1", "-1", "12.5", "TRUE", "FALSE", "abc", "a b", " 12", "12 ", "+5", "1.", ".5", "1.23456",
             "123456789012", "90000000001", "--5", "1e5", "TRUE ", "true", "#REF!", " =1", "\"", "-", "90000000000",
             "-90000000000", "A1", times("x", 60)};
         for (String s : kept) {
+            Bench b = new Bench("4 set");
             b.due("set " + s, b.put("A1", s), "1");
             b.dueContent("A1", s);
         }
@@ -79,10 +80,11 @@ public final class PromisesTest {
             {"'-", "-"}, {"' 5", " 5"}, {"'007", "'007"}, {"'" + times("y", 60), times("y", 60)},
             {"= 1 + 2 ", "=1+2"}, {"=\" a \" & 1.50", "=\" a \"&1.5"}, {"= ( A1 : $B$2 )", "=(A1:$B$2)"}, {"=00.50", "=0.5"}};
         for (String[] o : other) {
-            b.put("B1", "");
+            Bench b = new Bench("4 set").with("A1", "1");
             b.due("set " + o[0], b.put("B1", o[0]), "2");
             b.dueContent("B1", o[1]);
         }
+        Bench b = new Bench("4 set").with("A1", "1", "B1", "2");
         b.due("nothing", b.put("B1", ""), "1");
         b.dueContent("B1", "");
         b.dueValue("B1", "0:");

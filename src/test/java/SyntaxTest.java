@@ -44,8 +44,8 @@ public final class SyntaxTest {
     };
 
     public static void main(String[] args) {
-        Bench b = new Bench("syntax");
         for (String[] x : BROKEN) {
+            Bench b = new Bench("syntax");
             String formula = x[0];
             boolean sound = x[1].isEmpty();
             b.due("set " + formula, b.put("A1", formula), sound ? "1" : "UnsupportedOperationException");
@@ -59,6 +59,7 @@ public final class SyntaxTest {
             b.due("place in name X" + formula, () -> b.grid.count(3), sound ? -1 : 1 + Long.parseLong(x[1]));
         }
         for (String[] x : SOUND) {
+            Bench b = new Bench("syntax");
             b.due("set " + x[0], b.put("A1", x[0]), "1");
             b.dueContent("A1", x[1]);
             b.due("no place in " + x[0], () -> b.grid.count(3), -1);
