@@ -87,6 +87,7 @@ public final class FunctionBoundsTest {
         {"=CHOOSE(8.9999,1,2,3,4,5,6,7,80)", "N:80"}, {"=CHOOSE(90000000000,7)", "E:#VALUE!"}, {"=CHOOSE(Z9,7)", "E:#VALUE!"}, {"=CHOOSE(TRUE,7)", "N:7"},
         {"=CHOOSE(\"1\",7)", "E:#VALUE!"}, {"=CHOOSE(#N/A,7)", "E:#N/A"}, {"=CHOOSE({1},7)", "E:#VALUE!"}, {"=CHOOSE({#N/A},7)", "E:#VALUE!"},
         {"=CHOOSE(A1:A2,7)", "E:#VALUE!"}, {"=CHOOSE(LAMBDA(1),7)", "E:#CALC!"}, {"=CHOOSE(1,7,SEQUENCE(2081,1,1,1))", "N:7"}, {"=CHOOSE(2,#N/A,7)", "N:7"},
+        {"=CHOOSE(1,B1,A1,A1,A1,A1,A1,A1,B2)", "N:10"}, {"=CHOOSE(7,A1,A1,A1,A1,A1,A1,B2,A1)", "N:20"}, {"=CHOOSE(8,A1,A1,A1,A1,A1,A1,A1,B3)", "N:-30"},
         {"=CHOOSE(1,LAMBDA(4))()", "N:4"}, {"=COLUMNS(CHOOSE(2,1,{1,2,3}))", "N:3"},
     };
 
@@ -132,7 +133,8 @@ public final class FunctionBoundsTest {
     };
 
     private static final String[][] FUNCTIONS_MADE = {
-        {"=LET(V,1,V)", "N:1"}, {"=LET(V,1,W,2,X,3,Y,4,Z,5,V+W+X+Y+Z)", "N:15"}, {"=LAMBDA(7)()", "N:7"}, {"=LAMBDA(V,W,X,Y,Z,V+W+X+Y+Z)(1,2,3,4,5)", "N:15"},
+        {"=LET(QQ9,1,QQ_,2,QQZ,3,QQA,4,QQ0,5,QQ9&QQ_&QQZ&QQA&QQ0)", "T:12345"}, {"=LET(ABCDEFGHIJKL,1,ABCDEFGHIJKM,2,ABCDEFGHIJKL)", "N:1"},
+        {"=LET(A_,1,AA_,2,A__,3,A_&AA_&A__)", "T:123"}, {"=LET(V,1,V)", "N:1"}, {"=LET(V,1,W,2,X,3,Y,4,Z,5,V+W+X+Y+Z)", "N:15"}, {"=LAMBDA(7)()", "N:7"}, {"=LAMBDA(V,W,X,Y,Z,V+W+X+Y+Z)(1,2,3,4,5)", "N:15"},
         {"=LAMBDA(7)(1)", "E:#VALUE!"}, {"=LAMBDA(V,7)()", "E:#VALUE!"}, {"=LAMBDA(V,7)(1,2)", "E:#VALUE!"}, {"=LAMBDA(V,W,X,Y,Z,7)(1,2,3,4)", "E:#VALUE!"},
         {"=LAMBDA(V,W,X,Y,Z,7)(1,2,3,4,5,6)", "E:#VALUE!"}, {"=LAMBDA(7)(#N/A)", "E:#VALUE!"}, {"=7()", "E:#VALUE!"}, {"=#N/A()", "E:#N/A"}, {"={7}()", "E:#VALUE!"}, {"={#N/A}()", "E:#VALUE!"},
         {"=Z9()", "E:#VALUE!"}, {"=A6(1)", "E:#DIV/0!"}, {"=NOSUCH(1)", "E:#NAME?"}, {"=LAMBDA(LAMBDA(7))()()", "N:7"}, {"=LAMBDA(7)()()", "E:#VALUE!"}, {"=LAMBDA(#REF!)()(1)", "E:#REF!"},

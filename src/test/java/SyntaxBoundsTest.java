@@ -62,12 +62,17 @@ public final class SyntaxBoundsTest {
                     broken(formula, f[0].length() + 2 + 2 * most);
                 } else {
                     sound(formula);
+                    sound("=" + f[0] + "(" + many("1<-A1:B2%&X()", n) + ")");
                 }
             }
             sound("=" + f[0]);
             broken("=" + f[0] + "(" + many("1", most), f[0].length() + 1 + 2 * most);
             broken("=" + f[0] + "(" + many("1", most) + ", )", f[0].length() + 3 + 2 * most);
         }
+        sound("=(1<2)");
+        sound("=X(1<2,3>=4)(5<>6)");
+        sound("=LET(X,1<2,Y,3<4,X<>Y)");
+        sound("=LAMBDA(X,X<2)");
         for (int n = 0; n < 40; n++) {
             sound("=X(" + many("1", n) + ")");
             sound("=5(" + many("1", n) + ")()");
@@ -411,6 +416,32 @@ public final class SyntaxBoundsTest {
         }
     }
 
+    /** Bytes that once were on the tape are none of it: each first part is read as if nothing had been behind it. */
+    private static void firstParts() {
+        String[] wholes = {"=$A$1:$B$2<=\"a\"\"b\"&12.5%", "=#DIV/0!<>#N/A>=#CALC!", "={1,-2.5;TRUE,\"x\"}(A1B,A1_)", "=LET(X_1,5,LAMBDA(Y,X_1<=Y)( 3 ))",
+            "-12345678901.2345", "TRUE_", "FALSE1", "'=1", "12.34567", "=IF(1,2,3)-CHOOSE(1,2)"};
+        for (String whole : wholes) {
+            for (int n = 0; n <= whole.length(); n++) {
+                int kept = n;
+                Bench cut = new Bench("a part");
+                cut.tape(whole);
+                cut.grid.end(kept);
+                Bench alone = new Bench("alone");
+                alone.tape(whole.substring(0, kept));
+                String what = whole + ", its first " + kept;
+                cut.due("set of " + what, Bench.outcome(() -> cut.grid.set(0, 0)), Bench.outcome(() -> alone.grid.set(0, 0)));
+                cut.due("place in " + what, () -> cut.grid.count(3), alone.grid.count(3));
+                cut.due("content of " + what, cut.content("A1"), alone.content("A1"));
+                cut.due("value of " + what, cut.value("A1"), alone.value("A1"));
+                cut.tape("NM" + whole);
+                cut.grid.end(kept + 2);
+                alone.tape("NM" + whole.substring(0, kept));
+                cut.due("name of " + what, Bench.outcome(cut.grid::name), Bench.outcome(alone.grid::name));
+                cut.due("place in name of " + what, () -> cut.grid.count(3), alone.grid.count(3));
+            }
+        }
+    }
+
     private static void beginnings() {
         broken("=", 1);
         broken("=  ", 3);
@@ -438,6 +469,7 @@ public final class SyntaxBoundsTest {
         braces();
         operators();
         everyByte();
+        firstParts();
         beginnings();
         Bench.end("SyntaxBoundsTest");
     }

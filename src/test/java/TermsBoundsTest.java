@@ -247,6 +247,27 @@ public final class TermsBoundsTest {
         b.due("texts keep their blanks", b.put("A1", "=\"" + " ".repeat(248) + "\""), FULL);
     }
 
+    /** Each error by its number and its sign, as formulas give it and as it is written. */
+    private static void errors() {
+        String[][] all = {{"#DIV/0!", "=1/0"}, {"#VALUE!", "=-\"a\""}, {"#REF!", "=INDEX(1,2,2)"}, {"#NAME?", "=NOSUCH"}, {"#NUM!", "=90000000000+1"},
+            {"#N/A", "=MATCH(1,2)"}, {"#CIRC!", "=A1"}, {"#CALC!", "=LAMBDA(1)"}};
+        for (int k = 0; k < all.length; k++) {
+            String[] e = all[k];
+            int which = k + 1;
+            Bench b = new Bench(e[0]);
+            b.with("A1", e[1], "A2", "=" + e[0], "A3", "=ROWS(UNIQUE(A1:A2))");
+            for (int r = 0; r < 2; r++) {
+                int row = r;
+                b.due("kind", () -> b.grid.kind(row, 0), 4);
+                b.due("which", () -> b.grid.value(row, 0), which);
+                b.due("bytes of its sign", () -> b.grid.show(row, 0, false), e[0].length());
+            }
+            b.dueValue("A1", "E:" + e[0]);
+            b.dueValue("A2", "E:" + e[0]);
+            b.dueValue("A3", "N:1");
+        }
+    }
+
     private static void names() {
         Bench b = new Bench("20 names");
         b.with("A1", "=N1_", "A2", "=N20_", "A3", "=N21_");
@@ -553,6 +574,7 @@ public final class TermsBoundsTest {
         shownAgain();
         bytesOfTexts();
         lengthShown();
+        errors();
         names();
         unlikeArrays();
         areas();
