@@ -77,6 +77,9 @@ public final class FunctionBoundsTest {
         {"=IF(LAMBDA(1),1,2)", "E:#CALC!"}, {"=IF(1,5,SEQUENCE(2081,1,1,1))", "N:5"}, {"=IF(0,SEQUENCE(2081,1,1,1),5)", "N:5"},
         {"=IF({1},5,SEQUENCE(2081,1,1,1))", "E:#CALC!"}, {"=COLUMNS(IF({1},5,{1,2,3}))", "N:3"}, {"=SUM(IF({1,0},5))", "N:5"},
         {"=IF({1},LAMBDA(1),5)", "E:#CALC!"}, {"=IF({0},LAMBDA(1),5)", "N:5"}, {"=IF({1},#N/A,5)", "E:#N/A"}, {"=IF({\"\"},1,2)", "E:#VALUE!"},
+        {"=COUNT(IF(#N/A,1,2),5)", "N:1"}, {"=COUNT(IF(1,2,3),5)", "N:2"}, {"=COUNT(IF(0,2,3),5)", "N:2"}, {"=COUNT(IF(0,2),5)", "N:2"}, {"=IFERROR(IF(#N/A,1,2),7)&\"x\"", "T:7x"},
+        {"=COUNT(IFERROR(1,2),5)", "N:2"}, {"=COUNT(IFERROR(#N/A,2),5)", "N:2"}, {"=COUNT(CHOOSE(9,1),5)", "N:1"}, {"=COUNT(CHOOSE(1,1,2),5)", "N:2"}, {"=COUNT(CHOOSE(2,1,2),5)", "N:2"},
+        {"=IFERROR(CHOOSE(9,1),7)&\"x\"", "T:7x"}, {"=IF(IF(1,0,1),IF(1,2,3),IF(0,4,IF(1,5,6)))", "N:5"}, {"=IFERROR(IFERROR(#N/A,#REF!),IFERROR(#NUM!,3))", "N:3"},
         // IFERROR: a second one only for an error
         {"=IFERROR(5,SEQUENCE(2081,1,1,1))", "N:5"}, {"=IFERROR(#N/A,SEQUENCE(2081,1,1,1))", "E:#CALC!"}, {"=IFERROR({5},SEQUENCE(2081,1,1,1))", "E:#CALC!"},
         {"=IFERROR(Z9,5)", "0:"}, {"=IFERROR(\"\",5)", "T:"}, {"=IFERROR(#N/A,#REF!)", "E:#REF!"}, {"=IFERROR({#N/A},LAMBDA(1))", "E:#CALC!"},
@@ -116,7 +119,7 @@ public final class FunctionBoundsTest {
         {"=INDEX(SORT({2;1}),1,1)", "N:1"}, {"=INDEX(SORT({2,1}),1,1)", "N:2"}, {"=INDEX(SORT({TRUE;\"\";0}),1,1)", "N:0"}, {"=INDEX(SORT({TRUE;\"\";0}),3,1)", "B:TRUE"},
         {"=INDEX(SORT({#N/A;#DIV/0!;TRUE}),1,1)", "B:TRUE"}, {"=INDEX(SORT({#N/A;#DIV/0!;TRUE}),2,1)", "E:#N/A"}, {"=INDEX(SORT({1,1;0,2;1,3}),2,2)", "N:1"},
         {"=SORT(#N/A)", "E:#N/A"}, {"=UNIQUE(#N/A)", "E:#N/A"}, {"=ROWS(UNIQUE({1;1;1}))", "N:1"}, {"=ROWS(UNIQUE({1;2;3}))", "N:3"}, {"=ROWS(UNIQUE({#N/A;#N/A;#REF!}))", "N:2"},
-        {"=ROWS(UNIQUE({1,1;1,2;1,1}))", "N:2"}, {"=ROWS(UNIQUE(Z9:Z10))", "N:1"}, {"=ROWS(UNIQUE({0;\"\";FALSE}))", "N:3"}, {"=ROWS(UNIQUE({1,1,1}))", "N:1"},
+        {"=SUM(FILTER({5;6},{0;1}))&INDEX(UNIQUE({1;2;3}),1,1)&INDEX(SORT({3;2}),1,1)&INDEX(UNIQUE({7;8}),1,1)", "T:6127"}, {"=ROWS(UNIQUE({1,1;1,2;1,1}))", "N:2"}, {"=ROWS(UNIQUE(Z9:Z10))", "N:1"}, {"=ROWS(UNIQUE({0;\"\";FALSE}))", "N:3"}, {"=ROWS(UNIQUE({1,1,1}))", "N:1"},
         // FILTER: one column of as many, none left
         {"=ROWS(FILTER(A1:B3,{1;1;1}))", "N:3"}, {"=ROWS(FILTER(A1:B3,{0;0;1}))", "N:1"}, {"=FILTER(A1:B3,{0;0;0})", "E:#CALC!"}, {"=FILTER(A1:B3,{1;1})", "E:#VALUE!"},
         {"=FILTER(A1:B3,{1;1;1;1})", "E:#VALUE!"}, {"=FILTER(A1:B3,{1,1,1})", "E:#VALUE!"}, {"=FILTER(A1:B3,{1,1;1,1;1,1})", "E:#VALUE!"}, {"=FILTER(A1:B3,1)", "E:#VALUE!"},
@@ -134,7 +137,7 @@ public final class FunctionBoundsTest {
 
     private static final String[][] FUNCTIONS_MADE = {
         {"=LET(QQ9,1,QQ_,2,QQZ,3,QQA,4,QQ0,5,QQ9&QQ_&QQZ&QQA&QQ0)", "T:12345"}, {"=LET(ABCDEFGHIJKL,1,ABCDEFGHIJKM,2,ABCDEFGHIJKL)", "N:1"},
-        {"=LET(A_,1,AA_,2,A__,3,A_&AA_&A__)", "T:123"}, {"=LET(V,1,V)", "N:1"}, {"=LET(V,1,W,2,X,3,Y,4,Z,5,V+W+X+Y+Z)", "N:15"}, {"=LAMBDA(7)()", "N:7"}, {"=LAMBDA(V,W,X,Y,Z,V+W+X+Y+Z)(1,2,3,4,5)", "N:15"},
+        {"=LET(A_,1,AA_,2,A__,3,A_&AA_&A__)", "T:123"}, {"=LET(XA,1,YF,2,XA&YF)", "T:12"}, {"=LET(V,1,V)", "N:1"}, {"=LET(V,1,W,2,X,3,Y,4,Z,5,V+W+X+Y+Z)", "N:15"}, {"=LAMBDA(7)()", "N:7"}, {"=LAMBDA(V,W,X,Y,Z,V+W+X+Y+Z)(1,2,3,4,5)", "N:15"},
         {"=LAMBDA(7)(1)", "E:#VALUE!"}, {"=LAMBDA(V,7)()", "E:#VALUE!"}, {"=LAMBDA(V,7)(1,2)", "E:#VALUE!"}, {"=LAMBDA(V,W,X,Y,Z,7)(1,2,3,4)", "E:#VALUE!"},
         {"=LAMBDA(V,W,X,Y,Z,7)(1,2,3,4,5,6)", "E:#VALUE!"}, {"=LAMBDA(7)(#N/A)", "E:#VALUE!"}, {"=7()", "E:#VALUE!"}, {"=#N/A()", "E:#N/A"}, {"={7}()", "E:#VALUE!"}, {"={#N/A}()", "E:#VALUE!"},
         {"=Z9()", "E:#VALUE!"}, {"=A6(1)", "E:#DIV/0!"}, {"=NOSUCH(1)", "E:#NAME?"}, {"=LAMBDA(LAMBDA(7))()()", "N:7"}, {"=LAMBDA(7)()()", "E:#VALUE!"}, {"=LAMBDA(#REF!)()(1)", "E:#REF!"},
@@ -157,9 +160,13 @@ public final class FunctionBoundsTest {
         // comparisons: nothing, numbers, texts, truths
         {"=Z9=0", "B:TRUE"}, {"=Z9=\"\"", "B:TRUE"}, {"=Z9=FALSE", "B:TRUE"}, {"=Z9=Z10", "B:TRUE"}, {"=Z9<0.0001", "B:TRUE"}, {"=Z9>-0.0001", "B:TRUE"}, {"=Z9<\" \"", "B:TRUE"}, {"=Z9<TRUE", "B:TRUE"},
         {"=90000000000<\"\"", "B:TRUE"}, {"=\"~\"<FALSE", "B:TRUE"}, {"=\"\"<\" \"", "B:TRUE"}, {"=\"a\"<\"a \"", "B:TRUE"}, {"=\"Z\"<\"a\"", "B:TRUE"}, {"=\"a\"=\"A\"", "B:FALSE"}, {"=FALSE<TRUE", "B:TRUE"},
+        {"=\"abc\"=\"abc\"", "B:TRUE"}, {"=\"abc\"<\"abd\"", "B:TRUE"}, {"=\"abd\"<\"abc\"", "B:FALSE"}, {"=\"abc\"<\"abcd\"", "B:TRUE"}, {"=\"b\"<\"abc\"", "B:FALSE"},
         {"=1=TRUE", "B:FALSE"}, {"=0=FALSE", "B:FALSE"}, {"=\"1\"=1", "B:FALSE"}, {"=\"\"=0", "B:FALSE"}, {"=0.0001>0", "B:TRUE"}, {"=-0=0", "B:TRUE"}, {"=1<=1", "B:TRUE"}, {"=1>=1", "B:TRUE"}, {"=1<>1", "B:FALSE"},
         {"=#N/A=#N/A", "E:#N/A"}, {"=1=#REF!", "E:#REF!"}, {"=#NUM!<#REF!", "E:#NUM!"},
         // operators bind as told
+        {"=1&2=1&2", "B:TRUE"}, {"=1&2<>1&2", "B:FALSE"}, {"=1&2<=1&3", "B:TRUE"}, {"=1&2>=1&3", "B:FALSE"}, {"=1&2<1&3", "B:TRUE"}, {"=1&2>1&3", "B:FALSE"},
+        {"=8-2*3", "N:2"}, {"=8+2*3", "N:14"}, {"=8-4/2", "N:6"}, {"=8+4/2", "N:10"}, {"=8-4+2", "N:6"}, {"=8/4*2", "N:4"}, {"=8*4/2", "N:16"}, {"=8-2&8+2", "T:610"}, {"=8&2*3", "T:86"},
+        {"=2<1<>TRUE", "B:TRUE"}, {"=1+1>1*1", "B:TRUE"}, {"=-1&-2%", "T:-1-0.02"}, {"=LAMBDA(X,X)(50)%", "N:0.5"}, {"=-LAMBDA(X,X)(50)%", "N:-0.5"},
         {"=1+2*3", "N:7"}, {"=2*3+1", "N:7"}, {"=1&2+3", "T:15"}, {"=1+2&3", "T:33"}, {"=1&2=12", "B:FALSE"}, {"=1&2=\"12\"", "B:TRUE"}, {"=-2*-3", "N:6"}, {"=2--3", "N:5"}, {"=50%*2", "N:1"},
         {"=-50%", "N:-0.5"}, {"=8/4/2", "N:1"}, {"=8-4-2", "N:2"}, {"=1=1=1", "B:FALSE"}, {"=1=1=TRUE", "B:TRUE"}, {"=3>2>1", "B:TRUE"}, {"=(1=1)*2", "N:2"}, {"=\"a\"&\"b\"=\"ab\"", "B:TRUE"},
         // what numbers are needed of

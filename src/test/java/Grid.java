@@ -13,6 +13,11 @@ final class Grid {
         return grid;
     }
 
+    /** How many calls it may still be asked. */
+    int left() {
+        return CALLS_MOST - calls;
+    }
+
     int feed(int a, int b, int c, int d, int e) {
         return asked().feed(a, b, c, d, e);
     }

@@ -1,12 +1,23 @@
 import java.nio.charset.StandardCharsets;
+import java.util.ArrayList;
+import java.util.List;
 import java.util.Random;
 
 /** Runs of chance, held against the Oracle call by call. Arguments: first seed, number of runs. */
 public final class OracleTest {
+    /** What an edit and the looks behind it, or the looks at one cell, may take of an object's calls. */
+    private static final int CALLS_AN_EDIT = 160;
+    private static final int CALLS_A_CELL = 50;
+    private static final int CALLS_AT_THE_END = 60;
+
     private static int wrong;
 
     private interface Call {
         long answer();
+    }
+
+    private interface Act {
+        long on(Grid grid);
     }
 
     private static String outcome(Call c) {
@@ -25,8 +36,9 @@ public final class OracleTest {
     private final long seed;
     private final Random chance;
     private final FormulaMaker maker;
-    private final GridReckoner grid = new GridReckoner();
+    private Grid grid = new Grid();
     private final Oracle oracle = new Oracle();
+    private final List<Act> acts = new ArrayList<>();
     private final StringBuilder log = new StringBuilder();
     private boolean failed;
 
@@ -36,14 +48,14 @@ public final class OracleTest {
         maker = new FormulaMaker(chance);
     }
 
-    private void same(String call, Call a, Call b) {
+    private void same(String call, Act a, Call b) {
         if (failed) {
             return;
         }
         String due = outcome(b);
         String got;
         try {
-            got = outcome(a);
+            got = outcome(() -> a.on(grid));
         } catch (RuntimeException e) {
             got = e.toString() + " at " + e.getStackTrace()[0] + " " + e.getStackTrace()[1] + " " + e.getStackTrace()[2];
         }
@@ -54,23 +66,25 @@ public final class OracleTest {
         }
     }
 
+    /** One that is made again when the run is played again on a new object. */
+    private void act(String call, Act a, Call b) {
+        acts.add(a);
+        same(call, a, b);
+    }
+
     private void tape(String s) {
         byte[] bytes = s.getBytes(StandardCharsets.ISO_8859_1);
         int kept = Math.min(1980, bytes.length);
         for (int k = 0; k < kept; k += 20) {
-            int[] five = new int[5];
-            for (int i = 0; i < 20; i++) {
-                int b = k + i < bytes.length ? bytes[k + i] & 255 : 0;
-                five[i / 4] = five[i / 4] << 8 | b;
-            }
-            same("feed", () -> grid.feed(five[0], five[1], five[2], five[3], five[4]),
+            int[] five = Bench.ints(bytes, k);
+            act("feed", g -> g.feed(five[0], five[1], five[2], five[3], five[4]),
                     () -> oracle.feed(five[0], five[1], five[2], five[3], five[4]));
         }
-        same("end", () -> grid.end(kept), () -> oracle.end(kept));
+        act("end", g -> g.end(kept), () -> oracle.end(kept));
     }
 
-    private void edit(String call, String on, Call a, Call b) {
-        same(call + " of " + on, a, b);
+    private void edit(String call, String on, Act a, Call b) {
+        act(call + " of " + on, a, b);
         log.append("  ").append(call).append(on.isEmpty() ? "" : " of ").append(on).append(" -> ")
                 .append(oracle.count(2)).append('\n');
     }
@@ -80,7 +94,7 @@ public final class OracleTest {
         int c = chance.nextInt(6);
         String s = chance.nextInt(3) == 0 ? maker.constant() : chance.nextInt(12) == 0 ? maker.stretched() : maker.formula();
         tape(s);
-        edit("set(" + r + ", " + c + ")", s, () -> grid.set(r, c), () -> oracle.set(r, c));
+        edit("set(" + r + ", " + c + ")", s, g -> g.set(r, c), () -> oracle.set(r, c));
     }
 
     private void areaSome() {
@@ -90,7 +104,7 @@ public final class OracleTest {
         int w = 1 + chance.nextInt(3);
         String s = maker.formula();
         tape(s);
-        edit("area(" + r + ", " + c + ", " + h + ", " + w + ")", s, () -> grid.area(r, c, h, w),
+        edit("area(" + r + ", " + c + ", " + h + ", " + w + ")", s, g -> g.area(r, c, h, w),
                 () -> oracle.area(r, c, h, w));
     }
 
@@ -102,7 +116,7 @@ public final class OracleTest {
         int tr = chance.nextInt(15) == 0 ? 80 - h : chance.nextInt(8);
         int tc = chance.nextInt(15) == 0 ? 26 - w : chance.nextInt(5);
         edit("copy(" + r + ", " + c + ", " + h + ", " + w + ", " + tr + ", " + tc + ")", "",
-                () -> grid.copy(r, c, h, w, tr, tc), () -> oracle.copy(r, c, h, w, tr, tc));
+                g -> g.copy(r, c, h, w, tr, tc), () -> oracle.copy(r, c, h, w, tr, tc));
     }
 
     private void clearSome() {
@@ -110,7 +124,7 @@ public final class OracleTest {
         int c = chance.nextInt(6);
         int h = chance.nextInt(5);
         int w = chance.nextInt(4);
-        edit("clear(" + r + ", " + c + ", " + h + ", " + w + ")", "", () -> grid.clear(r, c, h, w),
+        edit("clear(" + r + ", " + c + ", " + h + ", " + w + ")", "", g -> g.clear(r, c, h, w),
                 () -> oracle.clear(r, c, h, w));
     }
 
@@ -120,7 +134,7 @@ public final class OracleTest {
         int k = chance.nextInt(10) == 0 ? (columns ? 25 : 79) - chance.nextInt(3) : chance.nextInt(8);
         int n = chance.nextInt(12) == 0 ? chance.nextInt(80) : 1 + chance.nextInt(3);
         edit((in ? "insert(" : "remove(") + columns + ", " + k + ", " + n + ")", "",
-                () -> in ? grid.insert(columns, k, n) : grid.remove(columns, k, n),
+                g -> in ? g.insert(columns, k, n) : g.remove(columns, k, n),
                 () -> in ? oracle.insert(columns, k, n) : oracle.remove(columns, k, n));
     }
 
@@ -128,63 +142,89 @@ public final class OracleTest {
         String s = maker.word() + (chance.nextInt(4) == 0 ? " " : "") + maker.formula();
         s = chance.nextInt(30) == 0 ? maker.broken(s) : s;
         tape(s);
-        edit("name()", s, grid::name, oracle::name);
+        edit("name()", s, g -> g.name(), oracle::name);
     }
 
     private void look(int r, int c) {
         String at = "(" + r + ", " + c + ")";
-        same("kind" + at, () -> grid.kind(r, c), () -> oracle.kind(r, c));
-        same("value" + at, () -> grid.value(r, c), () -> oracle.value(r, c));
+        same("kind" + at, g -> g.kind(r, c), () -> oracle.kind(r, c));
+        same("value" + at, g -> g.value(r, c), () -> oracle.value(r, c));
         for (int k = 0; k < 2; k++) {
             boolean content = k == 1;
-            same("show" + at + content, () -> grid.show(r, c, content), () -> oracle.show(r, c, content));
+            same("show" + at + content, g -> g.show(r, c, content), () -> oracle.show(r, c, content));
             int length = oracle.count(1);
             for (int i = 0; i <= length; i += 8) {
                 int from = i;
-                same("word(" + from + ") behind show" + at + content, () -> grid.word(from), () -> oracle.word(from));
+                same("word(" + from + ") behind show" + at + content, g -> g.word(from), () -> oracle.word(from));
             }
         }
     }
 
     private void lookAround() {
-        for (int what = 0; what < 5; what++) {
+        for (int what = chance.nextInt(5); what < 5; what++) {
             int k = what;
-            same("count(" + k + ")", () -> grid.count(k), () -> oracle.count(k));
+            same("count(" + k + ")", g -> g.count(k), () -> oracle.count(k));
         }
-        for (int r = 0; r < 15 && !failed; r++) {
-            for (int c = 0; c < 10; c++) {
-                look(r, c);
-            }
+        if (chance.nextInt(3) == 0) {
+            look(chance.nextInt(15), chance.nextInt(10));
         }
-        look(79, 25);
-        look(79 - chance.nextInt(60), chance.nextInt(26));
     }
 
-    private void run(int edits) {
-        for (int k = 0; k < edits && !failed; k++) {
-            int which = chance.nextInt(100);
-            if (which < 60) {
-                setSome();
-            } else if (which < 68) {
-                areaSome();
-            } else if (which < 80) {
-                copySome();
-            } else if (which < 83) {
-                clearSome();
-            } else if (which < 90) {
-                linesSome();
-            } else {
-                nameSome();
+    private void editSome() {
+        int which = chance.nextInt(100);
+        if (which < 60) {
+            setSome();
+        } else if (which < 68) {
+            areaSome();
+        } else if (which < 80) {
+            copySome();
+        } else if (which < 83) {
+            clearSome();
+        } else if (which < 90) {
+            linesSome();
+        } else {
+            nameSome();
+        }
+    }
+
+    private void playAgain() {
+        grid = new Grid();
+        for (Act a : acts) {
+            outcome(() -> a.on(grid));
+        }
+    }
+
+    /** More looks than one object answers: the run is played again as often as it takes. */
+    private void lookAtAll() {
+        List<int[]> cells = new ArrayList<>();
+        for (int k = 0; k < 150; k++) {
+            cells.add(new int[] {k / 10, k % 10});
+        }
+        cells.add(new int[] {79, 25});
+        cells.add(new int[] {79 - chance.nextInt(60), chance.nextInt(26)});
+        for (int[] cell : cells) {
+            if (grid.left() < CALLS_A_CELL) {
+                playAgain();
             }
+            look(cell[0], cell[1]);
+        }
+    }
+
+    private void run() {
+        while (!failed && grid.left() > CALLS_AN_EDIT + CALLS_AT_THE_END) {
+            editSome();
             lookAround();
+        }
+        if (!failed) {
+            lookAtAll();
         }
     }
 
     public static void main(String[] args) {
         long first = args.length > 0 ? Long.parseLong(args[0]) : 1;
-        long runs = args.length > 1 ? Long.parseLong(args[1]) : 150;
+        long runs = args.length > 1 ? Long.parseLong(args[1]) : 1500;
         for (long seed = first; seed < first + runs && wrong < 3; seed++) {
-            new OracleTest(seed).run(40);
+            new OracleTest(seed).run();
         }
         System.out.println(wrong == 0 ? "OracleTest: all answers are as due" : "OracleTest: " + wrong + " runs went wrong");
         System.exit(wrong == 0 ? 0 : 1);

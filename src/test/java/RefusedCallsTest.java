@@ -173,6 +173,11 @@ public final class RefusedCallsTest {
         s.refusesTape("4 set of 251 bytes", SOUND_251, set(0, 0), FULL, -1);
         s.refusesTape("4 set of 61 bytes", TEXT_61, set(0, 0), FULL, -1);
         s.refusesTape("4 set of 61 bytes", "'" + TEXT_61, set(3, 0), FULL, -1);
+        String[] longest = {"=" + "-".repeat(1998) + "1", "=\"" + "x".repeat(1997) + "\"", "=1" + "+1".repeat(999), "=CHOOSE(1" + ",1".repeat(8) + ")" + "+{1,1}".repeat(329)};
+        for (String formula : longest) {
+            s.refusesTape("4 set as long as may be", formula, set(3, 0), FULL, -1);
+            s.refusesTape("5 area as long as may be", formula, area(3, 0, 2, 2), FULL, -1);
+        }
         s.refusesTape("5 area of 251 bytes", SOUND_251, area(0, 1, 2, 2), FULL, -1);
         s.refusesTape("10 name of 251 bytes", "K" + SOUND_251, name(), FULL, -1);
         s.refusesTape("10 a new name of 251 bytes", "NEW" + SOUND_251, name(), FULL, -1);

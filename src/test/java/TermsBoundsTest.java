@@ -47,6 +47,10 @@ public final class TermsBoundsTest {
         worth("=" + most + "*" + most, "E:#NUM!");
         worth("=" + most + "*-" + most, "E:#NUM!");
         worth("=" + most + "*1.0001", "E:#NUM!");
+        worth("=3.1333*28723709826.7003", "N:" + most);
+        worth("=-3.1333*28723709826.7003", "N:-" + most);
+        worth("=1.1860*75885328836.4250", "E:#NUM!");
+        worth("=1.1860*-75885328836.4250", "E:#NUM!");
         worth("=" + most + "/1", "N:" + most);
         worth("=" + most + "/0.9999", "E:#NUM!");
         worth("=9000000/0.0001", "N:" + most);
@@ -295,6 +299,27 @@ public final class TermsBoundsTest {
         }
     }
 
+    /** What one formula makes of texts leaves those of names and of cells alone. */
+    private static void textsApart() {
+        Bench b = new Bench("texts of names");
+        for (int k = 1; k <= 20; k++) {
+            b.name("N" + k + "_=\"name " + k + "\"");
+        }
+        for (int k = 1; k <= 20; k++) {
+            b.with("A1", "=\"ab\"&\"cd\"&N" + k + "_&N" + (21 - k) + "_");
+            b.dueValue("A1", "T:abcdname " + k + "name " + (21 - k));
+        }
+        Bench c = new Bench("texts of cells");
+        String sixty = "0123456789".repeat(6);
+        c.with("Z80", sixty, "Y80", sixty, "A1", "'a", "A2", "=FIND(2,123456)&FIND(TRUE,TRUE)&LEN(-12345.6789)", "A3", "=Z80&\"\"", "B1", "=UPPER(A1)&A1");
+        c.dueValue("A2", "T:2111");
+        c.dueValue("Z80", "T:" + sixty);
+        c.dueValue("Y80", "T:" + sixty);
+        c.dueValue("A3", "T:" + sixty);
+        c.dueValue("B1", "T:Aa");
+        c.dueContent("A1", "a");
+    }
+
     private static void unlikeArrays() {
         String na = "E:#N/A";
         spread("={1,2,3}+{10,20,30}", 1, 3, "N:11", "N:22", "N:33");
@@ -322,6 +347,28 @@ public final class TermsBoundsTest {
         spread("={#REF!,1}+{#NUM!,#NUM!}", 1, 2, "E:#REF!", "E:#NUM!");
         worth("=COLUMNS({1,2,3}+{1,2})", "N:3");
         worth("=ROWS({1,2,3}+{1;2})", "N:2");
+    }
+
+    private static void wholeArrays() {
+        spread("=TRANSPOSE({1,2,3;4,5,6})", 3, 2, "N:1", "N:4", "N:2", "N:5", "N:3", "N:6");
+        spread("=TRANSPOSE({1;2})", 1, 2, "N:1", "N:2");
+        spread("=SEQUENCE(2,3,10,-1)", 2, 3, "N:10", "N:9", "N:8", "N:7", "N:6", "N:5");
+        spread("=SORT({2,\"a\";1,\"b\";2,\"c\";1,\"d\"})", 4, 2, "N:1", "T:b", "N:1", "T:d", "N:2", "T:a", "N:2", "T:c");
+        spread("=SORT({#REF!;TRUE;\"b\";#N/A;\"B\";3;FALSE;-1})", 8, 1, "N:-1", "N:3", "T:B", "T:b", "B:FALSE", "B:TRUE", "E:#REF!", "E:#N/A");
+        spread("=UNIQUE({1,2;1,3;1,2;2,2;1,3})", 3, 2, "N:1", "N:2", "N:1", "N:3", "N:2", "N:2");
+        spread("=FILTER({1,2;3,4;5,6},{1;0;TRUE})", 2, 2, "N:1", "N:2", "N:5", "N:6");
+        spread("=MAP({1,2;3,4},LAMBDA(X,X*X))", 2, 2, "N:1", "N:4", "N:9", "N:16");
+        spread("=MAKEARRAY(2,3,LAMBDA(X,Y,X&Y))", 2, 3, "T:11", "T:12", "T:13", "T:21", "T:22", "T:23");
+        spread("=REDUCE({0,0},{1;2},LAMBDA(X,Y,X+Y*{1,10}))", 1, 2, "N:3", "N:30");
+        spread("={1,\"a\";TRUE,#N/A}", 2, 2, "N:1", "T:a", "B:TRUE", "E:#N/A");
+        Bench b = new Bench("a range by its corners");
+        b.with("A1", "1", "B1", "2", "A2", "3", "B2", "4", "C2", "x");
+        for (String range : new String[] {"A1:B2", "B2:A1", "A2:B1", "B1:A2", "$A$1:B$2"}) {
+            b.area("D1", 2, 2, "=" + range);
+            b.due(range, b.value("D1") + b.value("E1") + b.value("D2") + b.value("E2"), "N:1N:2N:3N:4");
+        }
+        b.area("D5", 2, 3, "=A2:C3");
+        b.due("texts and nothing", b.value("D5") + b.value("F5") + b.value("D6") + b.value("F6"), "N:3T:x0:0:");
     }
 
     private static void areas() {
@@ -396,15 +443,30 @@ public final class TermsBoundsTest {
             b.due("worked out", () -> b.grid.count(4), 0);
             b.dueValue("C3", before);
         }
-        Bench b = new Bench("a name of names");
-        b.name("P=Q");
-        b.name("Q=R");
-        b.name("R=A1");
-        b.with("A1", "=B1", "B1", "=P");
-        b.dueValue("A1", "E:#CIRC!");
-        b.dueValue("B1", "E:#CIRC!");
-        b.name("R=2");
-        b.dueValue("A1", "N:2");
+        String[][] orders = {{"P=Q", "Q=R", "R=A1"}, {"Q=R", "P=Q", "R=A1"}, {"R=A1", "Q=R", "P=Q"}, {"R=A1", "P=Q", "Q=R"}};
+        for (String[] order : orders) {
+            Bench b = new Bench("a name of names");
+            b.with("A1", "=B1", "B1", "=P");
+            for (String name : order) {
+                b.name(name);
+            }
+            b.dueValue("A1", "E:#CIRC!");
+            b.dueValue("B1", "E:#CIRC!");
+            b.name("R=2");
+            b.due("worked out", () -> b.grid.count(4), 2);
+            b.dueValue("A1", "N:2");
+            b.name("R=C1");
+            b.with("C1", "5");
+            b.due("worked out", () -> b.grid.count(4), 2);
+            b.dueValue("A1", "N:5");
+        }
+        Bench k = new Bench("a name stands for no cell");
+        k.with("A1", "TRUE", "A2", "=SUM(K)", "A3", "=SUM(A1)", "A4", "=SUM(T)");
+        k.name("K=A1");
+        k.name("T=A1:A1");
+        k.dueValue("A2", "N:1");
+        k.dueValue("A3", "N:0");
+        k.dueValue("A4", "N:0");
     }
 
     private static void moved(String formula, int down, int right, String want) {
@@ -576,7 +638,9 @@ public final class TermsBoundsTest {
         lengthShown();
         errors();
         names();
+        textsApart();
         unlikeArrays();
+        wholeArrays();
         areas();
         hanging();
         hangingOnNames();
