@@ -1676,15 +1676,7 @@ public final class GridReckoner {
 
         /** Behind what stands there and is no cell: letters within it are none of its own. */
         private static int otherEnd(byte[] s, int at, int to) {
-            int stop = at;
-            if (s[at] == '"') {
-                stop = Lexer.textEnd(s, at, to);
-            } else if (s[at] == '#') {
-                int error = Lexer.error(s, at, to);
-                stop = error > 0 ? at + Val.sign(error).length() : at;
-            } else {
-                stop = Lexer.wordEnd(s, at, to);
-            }
+            int stop = s[at] == '"' ? Lexer.textEnd(s, at, to) : Lexer.wordEnd(s, at, to);
             return stop > at ? stop : at + 1;
         }
 

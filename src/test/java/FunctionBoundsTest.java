@@ -67,6 +67,7 @@ public final class FunctionBoundsTest {
         // a cell in ( ) is one, with a sign it is none
         {"=SUM(A5)", "N:0"}, {"=SUM((A5))", "N:0"}, {"=SUM(((A5)))", "N:0"}, {"=SUM(+A5)", "N:1"}, {"=SUM(-A5)", "N:-1"}, {"=SUM((+A5))", "N:1"},
         {"=SUM(+(A5))", "N:1"}, {"=SUM(A5%)", "N:0.01"}, {"=SUM((A5)%)", "N:0.01"}, {"=SUM(A4)", "N:0"}, {"=SUM(+A4)", "E:#VALUE!"}, {"=COUNT(+Z9)", "N:1"},
+        {"=SUM(A4&A4)", "E:#VALUE!"}, {"=SUM(A1=A1)", "N:1"}, {"=SUM((A1=A1))", "N:1"}, {"=SUM(A1:A1=A1)", "N:0"}, {"=AND(A4&A4)", "E:#VALUE!"}, {"=SUM(A1<>A1,A1>=A1)", "N:1"},
         {"=COUNT(Z9)", "N:0"}, {"=AND(+Z9)", "B:FALSE"}, {"=AND(Z9)", "B:TRUE"}, {"=SUM(A5:A5)", "N:0"}, {"=SUM(IF(1,A5))", "N:1"}, {"=SUM(CHOOSE(1,A5))", "N:1"},
     };
 
@@ -114,7 +115,7 @@ public final class FunctionBoundsTest {
         {"=COUNT(SEQUENCE(1,1,7,9))", "N:1"}, {"=SUM(SEQUENCE(2,2,1,0))", "N:4"}, {"=SEQUENCE(0,1,1,1)", "E:#CALC!"}, {"=SEQUENCE(1,0,1,1)", "E:#CALC!"},
         {"=SEQUENCE(0.9999,1,1,1)", "E:#CALC!"}, {"=ROWS(SEQUENCE(1.9999,1,1,1))", "N:1"}, {"=SEQUENCE(-1,1,1,1)", "E:#CALC!"}, {"=SEQUENCE(Z9,1,1,1)", "E:#CALC!"},
         {"=IFERROR(SEQUENCE(0,1,1,1),5)", "N:5"}, {"=IFERROR(SEQUENCE(0,3000,1,1),5)", "N:5"}, {"=SEQUENCE(TRUE,TRUE,7,0)", "N:7"}, {"=SEQUENCE(0,1,1,\"a\")", "E:#VALUE!"},
-        {"=SEQUENCE(0,1,1,#N/A)", "E:#N/A"}, {"=ROWS(SEQUENCE(2080,1,1,1))", "N:2080"}, {"=SEQUENCE(2081,1,1,1)", "E:#CALC!"}, {"=COLUMNS(SEQUENCE(26,80,1,1))", "N:80"},
+        {"=SEQUENCE(0,1,1,#N/A)", "E:#N/A"}, {"=ROWS(SEQUENCE(2080,1,1,1))", "N:2080"}, {"=COLUMNS(SEQUENCE(1,2080,1,1))", "N:2080"}, {"=SEQUENCE(1,2081,1,1)", "E:#CALC!"}, {"=SEQUENCE(2081,1,1,1)", "E:#CALC!"}, {"=COLUMNS(SEQUENCE(26,80,1,1))", "N:80"},
         // SORT, UNIQUE
         {"=INDEX(SORT({2;1}),1,1)", "N:1"}, {"=INDEX(SORT({2,1}),1,1)", "N:2"}, {"=INDEX(SORT({TRUE;\"\";0}),1,1)", "N:0"}, {"=INDEX(SORT({TRUE;\"\";0}),3,1)", "B:TRUE"},
         {"=INDEX(SORT({#N/A;#DIV/0!;TRUE}),1,1)", "B:TRUE"}, {"=INDEX(SORT({#N/A;#DIV/0!;TRUE}),2,1)", "E:#N/A"}, {"=INDEX(SORT({1,1;0,2;1,3}),2,2)", "N:1"},
@@ -137,7 +138,10 @@ public final class FunctionBoundsTest {
 
     private static final String[][] FUNCTIONS_MADE = {
         {"=LET(QQ9,1,QQ_,2,QQZ,3,QQA,4,QQ0,5,QQ9&QQ_&QQZ&QQA&QQ0)", "T:12345"}, {"=LET(ABCDEFGHIJKL,1,ABCDEFGHIJKM,2,ABCDEFGHIJKL)", "N:1"},
-        {"=LET(A_,1,AA_,2,A__,3,A_&AA_&A__)", "T:123"}, {"=LET(XA,1,YF,2,XA&YF)", "T:12"}, {"=LET(V,1,V)", "N:1"}, {"=LET(V,1,W,2,X,3,Y,4,Z,5,V+W+X+Y+Z)", "N:15"}, {"=LAMBDA(7)()", "N:7"}, {"=LAMBDA(V,W,X,Y,Z,V+W+X+Y+Z)(1,2,3,4,5)", "N:15"},
+        {"=LET(A_,1,AA_,2,A__,3,A_&AA_&A__)", "T:123"}, {"=LET(XA,1,YF,2,XA&YF)", "T:12"}, {"=LET(V,1,V)", "N:1"},
+        {"=LET(X,1,X)+X", "E:#NAME?"}, {"=LET(X,1,Y,2,X)+Y", "E:#NAME?"}, {"=X+LET(X,1,X)", "E:#NAME?"}, {"=LAMBDA(X,X)(1)+X", "E:#NAME?"}, {"=LET(X,1,LET(Y,2,X)+X)", "N:2"},
+        {"=LET(X,1,LET(X,2,Y,3,X+Y)+X)", "N:6"}, {"=LET(X,1,LAMBDA(X,X)(5)+X)", "N:6"}, {"=LET(X,TRUE,SUM(X))", "N:1"}, {"=LET(X,\"a\",SUM(X))", "E:#VALUE!"}, {"=LET(X,A5,SUM(X))", "N:1"},
+        {"=LET(V,1,W,2,X,3,Y,4,Z,5,V+W+X+Y+Z)", "N:15"}, {"=LAMBDA(7)()", "N:7"}, {"=LAMBDA(V,W,X,Y,Z,V+W+X+Y+Z)(1,2,3,4,5)", "N:15"},
         {"=LAMBDA(7)(1)", "E:#VALUE!"}, {"=LAMBDA(V,7)()", "E:#VALUE!"}, {"=LAMBDA(V,7)(1,2)", "E:#VALUE!"}, {"=LAMBDA(V,W,X,Y,Z,7)(1,2,3,4)", "E:#VALUE!"},
         {"=LAMBDA(V,W,X,Y,Z,7)(1,2,3,4,5,6)", "E:#VALUE!"}, {"=LAMBDA(7)(#N/A)", "E:#VALUE!"}, {"=7()", "E:#VALUE!"}, {"=#N/A()", "E:#N/A"}, {"={7}()", "E:#VALUE!"}, {"={#N/A}()", "E:#VALUE!"},
         {"=Z9()", "E:#VALUE!"}, {"=A6(1)", "E:#DIV/0!"}, {"=NOSUCH(1)", "E:#NAME?"}, {"=LAMBDA(LAMBDA(7))()()", "N:7"}, {"=LAMBDA(7)()()", "E:#VALUE!"}, {"=LAMBDA(#REF!)()(1)", "E:#REF!"},
@@ -182,6 +186,24 @@ public final class FunctionBoundsTest {
         }
     }
 
+    /** Each comparison of what comes before, is equal and comes behind. */
+    private static void comparisons() {
+        String[][] pairs = {{"1", "2"}, {"-0.0001", "0"}, {"0", "0.0001"}, {"\"a\"", "\"b\""}, {"\"\"", "\"a\""}, {"\"ab\"", "\"abc\""}, {"\"abc\"", "\"abd\""}, {"\"Z\"", "\"a\""},
+            {"FALSE", "TRUE"}, {"5", "\"\""}, {"5", "FALSE"}, {"\"z\"", "FALSE"}, {"Z9", "1"}, {"-1", "Z9"}, {"Z9", "\"a\""}, {"Z9", "TRUE"}, {"-90000000000", "90000000000"}};
+        String[][] signs = {{"=", "FALSE", "TRUE", "FALSE"}, {"<>", "TRUE", "FALSE", "TRUE"}, {"<=", "TRUE", "TRUE", "FALSE"}, {">=", "FALSE", "TRUE", "TRUE"},
+            {"<", "TRUE", "FALSE", "FALSE"}, {">", "FALSE", "FALSE", "TRUE"}};
+        for (String[] pair : pairs) {
+            for (String[] sign : signs) {
+                Bench b = new Bench("comparisons");
+                b.with("A1", "=" + pair[0] + sign[0] + pair[1], "A2", "=" + pair[0] + sign[0] + pair[0], "A3", "=" + pair[1] + sign[0] + pair[1], "A4", "=" + pair[1] + sign[0] + pair[0]);
+                b.dueValue("A1", "B:" + sign[1]);
+                b.dueValue("A2", "B:" + sign[2]);
+                b.dueValue("A3", "B:" + sign[2]);
+                b.dueValue("A4", "B:" + sign[3]);
+            }
+        }
+    }
+
     public static void main(String[] args) {
         all("numbers", WHOLE_NUMBERS);
         all("texts", TEXTS);
@@ -190,6 +212,7 @@ public final class FunctionBoundsTest {
         all("tables", TABLES);
         all("functions made", FUNCTIONS_MADE);
         all("order", ORDER);
+        comparisons();
         Bench.end("FunctionBoundsTest");
     }
 }

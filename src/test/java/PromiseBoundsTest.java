@@ -79,6 +79,23 @@ public final class PromiseBoundsTest {
         }
     }
 
+    /** All that is there would go. */
+    private static void linesOfOneCell() {
+        Bench b = new Bench("one cell");
+        b.with("A1", "1");
+        b.dueThrown("as many rows as there are", () -> b.grid.insert(false, 0, 80), FULL);
+        b.dueThrown("as many columns as there are", () -> b.grid.insert(true, 0, 26), FULL);
+        b.due("one row less", () -> b.grid.insert(false, 0, 79), 1);
+        b.due("one column less", () -> b.grid.insert(true, 0, 25), 1);
+        b.dueContent("Z80", "1");
+        b.dueThrown("no further", () -> b.grid.insert(false, 79, 1), FULL);
+        b.dueThrown("no further", () -> b.grid.insert(true, 25, 1), FULL);
+        b.due("back", () -> b.grid.remove(false, 0, 79), 1);
+        b.due("back", () -> b.grid.remove(true, 0, 25), 1);
+        b.dueContent("A1", "1");
+        b.due("all rows", () -> b.grid.remove(false, 0, 80), 0);
+    }
+
     /** Rows 3 to 5 or columns C to E: before its first line it moves, behind its last it stays, between it would be cut. */
     private static void linesAndAreas() {
         for (int k = 0; k <= 7; k++) {
@@ -254,6 +271,7 @@ public final class PromiseBoundsTest {
         sizes();
         fullSheet();
         linesOfAnEmptySheet();
+        linesOfOneCell();
         linesAndAreas();
         wordsOfTheResult();
         tapeStays();

@@ -318,6 +318,25 @@ public final class TermsBoundsTest {
         c.dueValue("A3", "T:" + sixty);
         c.dueValue("B1", "T:Aa");
         c.dueContent("A1", "a");
+        c.with("C1", "abcd", "C1", "ab", "C2", "=FIND(\"c\",C1)", "C3", "=C1&\"|\"", "C4", "=RIGHT(C1,3)");
+        c.dueValue("C2", "E:#VALUE!");
+        c.dueValue("C3", "T:ab|");
+        c.dueValue("C4", "T:ab");
+    }
+
+    private static void namesAndAreas() {
+        Bench b = new Bench("names used by areas and cells in turn");
+        b.name("K=5");
+        b.name("L=K*2");
+        b.area("A1", 2, 1, "=K+1");
+        b.with("B1", "=K", "B2", "=L");
+        b.area("A3", 2, 1, "=L+K");
+        b.with("B3", "=K&L");
+        b.dueValue("A2", "N:6");
+        b.dueValue("B1", "N:5");
+        b.dueValue("B2", "N:10");
+        b.dueValue("A4", "N:15");
+        b.dueValue("B3", "T:510");
     }
 
     private static void unlikeArrays() {
@@ -399,6 +418,9 @@ public final class TermsBoundsTest {
     private static void hanging() {
         String[][] rings = {
             {"=C3"}, {"=C3:C3"}, {"=$C$3"}, {"=ROWS(A1:D4)"}, {"=IF(TRUE,1,C3)"}, {"=IFERROR(1,C3)"}, {"=CHOOSE(1,1,C3)"},
+            {"=IFERROR(C3,1)"}, {"=IFERROR(D4,1)", "=IFERROR(C3,1)"}, {"=IFERROR(D4,1)", "=IFERROR(E5,1)", "=IFERROR(C3,1)"},
+            {"=IFERROR(D4,1)", "=IFERROR(E5,1)", "=IFERROR(F6,1)", "=IFERROR(C3,1)"}, {"=ROWS(D4:F6)", "=COUNT(C3:C4)", "=COUNT(C3:D4)", "=COUNT(E5:E6)"},
+            {"=COUNT(D4,E5,F6)", "=COUNT(C3)", "=COUNT(C3)", "=COUNT(C3)"}, {"=COUNT(D4)", "=COUNT(E5,C3)", "=COUNT(F6,D4)", "=COUNT(E5)"},
             {"=LAMBDA(C3)"}, {"=LET(X,C3,1)"}, {"=5(C3)"}, {"=D4", "=C3"}, {"=D4", "=E5", "=F6", "=C3"}, {"=D4", "=SUM(A1:C3)"}};
         for (String[] ring : rings) {
             Bench b = new Bench("ring of " + String.join(" ", ring));
@@ -417,6 +439,18 @@ public final class TermsBoundsTest {
             b.dueValue("H8", "N:6");
             b.dueValue("H9", "N:6");
         }
+        Bench apart = new Bench("two rings, one hanging on the other");
+        apart.with("A1", "=COUNT(A2)", "A2", "=COUNT(A1)", "B1", "=COUNT(B2,A1)", "B2", "=COUNT(B1)", "C1", "=COUNT(B1,A1,7)", "C2", "=COUNTA(C1,A1)");
+        for (String cell : new String[] {"A1", "A2", "B1", "B2"}) {
+            apart.dueValue(cell, "E:#CIRC!");
+        }
+        apart.dueValue("C1", "N:1");
+        apart.dueValue("C2", "N:2");
+        apart.with("A2", "3");
+        apart.due("worked out", () -> apart.grid.count(4), 5);
+        apart.dueValue("A1", "N:1");
+        apart.dueValue("B1", "E:#CIRC!");
+        apart.dueValue("C1", "N:2");
         Bench next = new Bench("next to itself");
         next.with("C3", "=SUM(A1:B4)+SUM(C1:C2)+SUM(C4:D4)+D3");
         next.dueValue("C3", "N:0");
@@ -639,6 +673,7 @@ public final class TermsBoundsTest {
         errors();
         names();
         textsApart();
+        namesAndAreas();
         unlikeArrays();
         wholeArrays();
         areas();
