@@ -318,7 +318,9 @@ public final class TermsBoundsTest {
         c.dueValue("A3", "T:" + sixty);
         c.dueValue("B1", "T:Aa");
         c.dueContent("A1", "a");
-        c.with("C1", "abcd", "C1", "ab", "C2", "=FIND(\"c\",C1)", "C3", "=C1&\"|\"", "C4", "=RIGHT(C1,3)");
+        c.with("C1", "abzz", "C1", "ab", "C2", "=FIND(\"z\",C1)", "C3", "=C1&\"|\"", "C4", "=RIGHT(C1,3)", "C5", "=\"abc\">C1", "C6", "=C1<\"abc\"");
+        c.dueValue("C5", "B:TRUE");
+        c.dueValue("C6", "B:TRUE");
         c.dueValue("C2", "E:#VALUE!");
         c.dueValue("C3", "T:ab|");
         c.dueValue("C4", "T:ab");
