@@ -64,6 +64,8 @@ public final class FunctionBoundsTest {
         {"=SUM(\"a\",#N/A,LAMBDA(1))", "E:#VALUE!"}, {"=SUM(#N/A,\"a\",LAMBDA(1))", "E:#N/A"}, {"=SUM(LAMBDA(1),#N/A,\"a\")", "E:#CALC!"},
         {"=SUM({1,2;#REF!,#NUM!},#N/A)", "E:#REF!"}, {"=SUM(A1:A6,#N/A)", "E:#DIV/0!"}, {"=MAX(A4,#NUM!,A6)", "E:#NUM!"}, {"=AND(0,\"a\")", "E:#VALUE!"},
         {"=OR(1,#N/A)", "E:#N/A"}, {"=SUM(90000000000,1,#N/A)", "E:#N/A"}, {"=PRODUCT(90000000000,2,\"a\")", "E:#VALUE!"},
+        {"=IFERROR(SUM(90000000000,1),5)+SUM(1,2)", "N:8"}, {"=IFERROR(PRODUCT(90000000000,2),5)+PRODUCT(1,2)", "N:7"}, {"=IFERROR(SUM(90000000000,1),5)+AVERAGE(1,2)", "N:6.5"},
+        {"=IFERROR(SUM(#N/A),5)+SUM(1,2)", "N:8"}, {"=SUM(7,8)+SUM(A4)+MAX(-1,-2)+COUNT(1)", "N:15"}, {"=IFERROR(SUMIF({1;1},1,{90000000000;1}),5)+SUMIF({1;1},1,{2;1})", "N:8"},
         // a cell in ( ) is one, with a sign it is none
         {"=SUM(A5)", "N:0"}, {"=SUM((A5))", "N:0"}, {"=SUM(((A5)))", "N:0"}, {"=SUM(+A5)", "N:1"}, {"=SUM(-A5)", "N:-1"}, {"=SUM((+A5))", "N:1"},
         {"=SUM(+(A5))", "N:1"}, {"=SUM(A5%)", "N:0.01"}, {"=SUM((A5)%)", "N:0.01"}, {"=SUM(A4)", "N:0"}, {"=SUM(+A4)", "E:#VALUE!"}, {"=COUNT(+Z9)", "N:1"},

@@ -123,6 +123,16 @@ public final class LimitsTest {
         b.dueValue("A4", "N:800");
         b.dueValue("A5", "E:#CALC!");
         b.dueValue("A6", "E:#CALC!");
+        Bench many = new Bench("many formulas");
+        many.with("A1", "=SUM(SEQUENCE(2080,1,1,0))+ROWS(LEFT(SEQUENCE(2080,1,1,0)&\"" + "x".repeat(20) + "\",20))");
+        for (int k = 1; k < 64; k *= 2) {
+            many.grid.copy(0, 0, k, 1, k, 0);
+        }
+        many.grid.copy(0, 0, 64, 1, 0, 1);
+        many.grid.copy(0, 0, 64, 2, 0, 2);
+        many.due("formulas", () -> many.grid.count(4), 128);
+        many.dueValue("A1", "N:4160");
+        many.dueValue("D64", "N:4160");
         b.with("A7", "=IFERROR(A6,3)");
         b.dueValue("A7", "N:3");
     }

@@ -79,6 +79,38 @@ public final class PromiseBoundsTest {
         }
     }
 
+    /** Where rows and columns have been put in there is nothing, and so where the last ones have come back from. */
+    private static void nothingIsLeftBehind() {
+        for (int columns = 0; columns < 2; columns++) {
+            boolean across = columns == 1;
+            Bench b = new Bench("what moved leaves nothing behind");
+            b.with("B2", "=1+1", "C3", "x");
+            b.area("D4", 2, 2, "={1,2;3,4}");
+            b.due("insert", () -> b.grid.insert(across, 1, 5), 6);
+            String[] old = {"B2", "C3", "D4", "E5"};
+            for (String cell : old) {
+                b.dueContent(cell, "");
+                b.dueValue(cell, "0:");
+            }
+            int r = across ? 1 : 6;
+            int c = across ? 6 : 1;
+            b.dueContent(Bench.cell(r, c), "=1+1");
+            b.due("clear of where they were", () -> b.grid.clear(1, 1, across ? 79 : 5, across ? 5 : 25), 6);
+            b.due("all are there", () -> b.grid.count(2), 6);
+            b.with("B2", "7");
+            b.dueValue(Bench.cell(r, c), "N:2");
+            b.put("B2", "");
+            b.due("remove", () -> b.grid.remove(across, 1, 5), 6);
+            b.dueContent(Bench.cell(r, c), "");
+            b.dueContent(across ? "J5" : "E10", "");
+            b.dueValue(across ? "J5" : "E10", "0:");
+            b.due("set where the area was", b.put(across ? "J5" : "E10", "8"), "7");
+            b.dueContent("B2", "=1+1");
+            b.dueContent("C3", "x");
+            b.dueValue("E5", "N:4");
+        }
+    }
+
     /** All that is there would go. */
     private static void linesOfOneCell() {
         Bench b = new Bench("one cell");
@@ -271,6 +303,7 @@ public final class PromiseBoundsTest {
         sizes();
         fullSheet();
         linesOfAnEmptySheet();
+        nothingIsLeftBehind();
         linesOfOneCell();
         linesAndAreas();
         wordsOfTheResult();
