@@ -65,7 +65,7 @@ public final class FunctionBoundsTest {
         {"=SUM({1,2;#REF!,#NUM!},#N/A)", "E:#REF!"}, {"=SUM(A1:A6,#N/A)", "E:#DIV/0!"}, {"=MAX(A4,#NUM!,A6)", "E:#NUM!"}, {"=AND(0,\"a\")", "E:#VALUE!"},
         {"=OR(1,#N/A)", "E:#N/A"}, {"=SUM(90000000000,1,#N/A)", "E:#N/A"}, {"=PRODUCT(90000000000,2,\"a\")", "E:#VALUE!"},
         {"=IFERROR(SUM(90000000000,1),5)+SUM(1,2)", "N:8"}, {"=IFERROR(PRODUCT(90000000000,2),5)+PRODUCT(1,2)", "N:7"}, {"=IFERROR(SUM(90000000000,1),5)+AVERAGE(1,2)", "N:6.5"},
-        {"=IFERROR(SUM(#N/A),5)+SUM(1,2)", "N:8"}, {"=SUM(7,8)+SUM(A4)+MAX(-1,-2)+COUNT(1)", "N:15"}, {"=IFERROR(SUMIF({1;1},1,{90000000000;1}),5)+SUMIF({1;1},1,{2;1})", "N:8"},
+        {"=IFERROR(SUM(#N/A),5)+SUM(1,2)", "N:8"}, {"=SUM(7,8)+SUM(A4)+MAX(-1,-2)+COUNT(1)", "N:15"}, {"=SUM(5)+SUMIF({1},1,{2})+SUM(1)", "N:8"}, {"=IFERROR(SUMIF({1;1},1,{90000000000;1}),5)+SUMIF({1;1},1,{2;1})", "N:8"},
         // a cell in ( ) is one, with a sign it is none
         {"=SUM(A5)", "N:0"}, {"=SUM((A5))", "N:0"}, {"=SUM(((A5)))", "N:0"}, {"=SUM(+A5)", "N:1"}, {"=SUM(-A5)", "N:-1"}, {"=SUM((+A5))", "N:1"},
         {"=SUM(+(A5))", "N:1"}, {"=SUM(A5%)", "N:0.01"}, {"=SUM((A5)%)", "N:0.01"}, {"=SUM(A4)", "N:0"}, {"=SUM(+A4)", "E:#VALUE!"}, {"=COUNT(+Z9)", "N:1"},
@@ -83,6 +83,9 @@ public final class FunctionBoundsTest {
         {"=COUNT(IF(#N/A,1,2),5)", "N:1"}, {"=COUNT(IF(1,2,3),5)", "N:2"}, {"=COUNT(IF(0,2,3),5)", "N:2"}, {"=COUNT(IF(0,2),5)", "N:2"}, {"=IFERROR(IF(#N/A,1,2),7)&\"x\"", "T:7x"},
         {"=COUNT(IFERROR(1,2),5)", "N:2"}, {"=COUNT(IFERROR(#N/A,2),5)", "N:2"}, {"=COUNT(CHOOSE(9,1),5)", "N:1"}, {"=COUNT(CHOOSE(1,1,2),5)", "N:2"}, {"=COUNT(CHOOSE(2,1,2),5)", "N:2"},
         {"=IFERROR(CHOOSE(9,1),7)&\"x\"", "T:7x"}, {"=IF(IF(1,0,1),IF(1,2,3),IF(0,4,IF(1,5,6)))", "N:5"}, {"=IFERROR(IFERROR(#N/A,#REF!),IFERROR(#NUM!,3))", "N:3"},
+        {"=IF(#N/A,SEQUENCE(2081,1,1,1),SEQUENCE(2081,1,1,1))", "E:#N/A"}, {"=IF(\"a\",SEQUENCE(2081,1,1,1),SEQUENCE(2081,1,1,1))", "E:#VALUE!"}, {"=IF(0,SEQUENCE(2081,1,1,1))", "B:FALSE"},
+        {"=CHOOSE(#N/A,SEQUENCE(2081,1,1,1))", "E:#N/A"}, {"=CHOOSE(9,SEQUENCE(2081,1,1,1))", "E:#VALUE!"}, {"=CHOOSE({1},SEQUENCE(2081,1,1,1))", "E:#VALUE!"},
+        {"=CHOOSE(\"a\",SEQUENCE(2081,1,1,1))", "E:#VALUE!"}, {"=IFERROR(LAMBDA(1),SEQUENCE(2081,1,1,1))()", "N:1"},
         // IFERROR: a second one only for an error
         {"=IFERROR(5,SEQUENCE(2081,1,1,1))", "N:5"}, {"=IFERROR(#N/A,SEQUENCE(2081,1,1,1))", "E:#CALC!"}, {"=IFERROR({5},SEQUENCE(2081,1,1,1))", "E:#CALC!"},
         {"=IFERROR(Z9,5)", "0:"}, {"=IFERROR(\"\",5)", "T:"}, {"=IFERROR(#N/A,#REF!)", "E:#REF!"}, {"=IFERROR({#N/A},LAMBDA(1))", "E:#CALC!"},
@@ -122,7 +125,7 @@ public final class FunctionBoundsTest {
         {"=INDEX(SORT({2;1}),1,1)", "N:1"}, {"=INDEX(SORT({2,1}),1,1)", "N:2"}, {"=INDEX(SORT({TRUE;\"\";0}),1,1)", "N:0"}, {"=INDEX(SORT({TRUE;\"\";0}),3,1)", "B:TRUE"},
         {"=INDEX(SORT({#N/A;#DIV/0!;TRUE}),1,1)", "B:TRUE"}, {"=INDEX(SORT({#N/A;#DIV/0!;TRUE}),2,1)", "E:#N/A"}, {"=INDEX(SORT({1,1;0,2;1,3}),2,2)", "N:1"},
         {"=SORT(#N/A)", "E:#N/A"}, {"=UNIQUE(#N/A)", "E:#N/A"}, {"=ROWS(UNIQUE({1;1;1}))", "N:1"}, {"=ROWS(UNIQUE({1;2;3}))", "N:3"}, {"=ROWS(UNIQUE({#N/A;#N/A;#REF!}))", "N:2"},
-        {"=SUM(FILTER({5;6},{0;1}))&INDEX(UNIQUE({1;2;3}),1,1)&INDEX(SORT({3;2}),1,1)&INDEX(UNIQUE({7;8}),1,1)", "T:6127"}, {"=ROWS(UNIQUE({1,1;1,2;1,1}))", "N:2"}, {"=ROWS(UNIQUE(Z9:Z10))", "N:1"}, {"=ROWS(UNIQUE({0;\"\";FALSE}))", "N:3"}, {"=ROWS(UNIQUE({1,1,1}))", "N:1"},
+        {"=SUM(FILTER({5;6},{0;1}))&INDEX(UNIQUE({1;2;3}),1,1)&INDEX(SORT({3;2}),1,1)&INDEX(UNIQUE({7;8}),1,1)", "T:6127"}, {"=ROWS(UNIQUE({1,1;1,2;1,1}))", "N:2"}, {"=ROWS(SORT({1;2;3}))&ROWS(FILTER({5;6},{0;1}))&ROWS(UNIQUE({1;1}))&ROWS(FILTER({5;6},{1;1}))", "T:3112"}, {"=ROWS(UNIQUE(Z9:Z10))", "N:1"}, {"=ROWS(UNIQUE({0;\"\";FALSE}))", "N:3"}, {"=ROWS(UNIQUE({1,1,1}))", "N:1"},
         // FILTER: one column of as many, none left
         {"=ROWS(FILTER(A1:B3,{1;1;1}))", "N:3"}, {"=ROWS(FILTER(A1:B3,{0;0;1}))", "N:1"}, {"=FILTER(A1:B3,{0;0;0})", "E:#CALC!"}, {"=FILTER(A1:B3,{1;1})", "E:#VALUE!"},
         {"=FILTER(A1:B3,{1;1;1;1})", "E:#VALUE!"}, {"=FILTER(A1:B3,{1,1,1})", "E:#VALUE!"}, {"=FILTER(A1:B3,{1,1;1,1;1,1})", "E:#VALUE!"}, {"=FILTER(A1:B3,1)", "E:#VALUE!"},

@@ -100,6 +100,11 @@ public final class LimitsTest {
         b.name("THREE=LAMBDA(LAMBDA(LAMBDA(7)())())()");
         both(b, "=THREE+" + "LAMBDA(".repeat(6) + "THREE" + ")()".repeat(6), "N:14", "=THREE+" + "LAMBDA(".repeat(7) + "THREE" + ")()".repeat(7));
         both(b, "=" + "LAMBDA(".repeat(6) + "THREE" + ")()".repeat(6), "N:7", "=" + "LAMBDA(".repeat(7) + "THREE" + ")()".repeat(7));
+        b.name("FLAT=7");
+        b.with("Z80", "=" + ten + "+FLAT+LAMBDA(LAMBDA(FLAT)())()");
+        b.dueValue("Z80", "N:21");
+        b.name("BOTH=LAMBDA(LAMBDA(LAMBDA(7)())())()+FLAT");
+        both(b, "=BOTH+" + "LAMBDA(".repeat(6) + "BOTH" + ")()".repeat(6), "N:28", "=BOTH+" + "LAMBDA(".repeat(7) + "BOTH" + ")()".repeat(7));
         b.name("DEEP=LAMBDA(N,IF(N<2,SUM(MAP({1,2},LAMBDA(X,X))),DEEP(N-1)))");
         both(b, "=DEEP(9)", "N:3", "=DEEP(10)");
         b.name("FOLD=LAMBDA(N,IF(N<2,REDUCE(0,{1,2},LAMBDA(X,Y,X+Y)),FOLD(N-1)))");

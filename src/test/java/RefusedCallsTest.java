@@ -225,6 +225,11 @@ public final class RefusedCallsTest {
         n.with("A10", "3");
         n.dueValue("A5", "N:123");
 
+        Scene first = new Scene().name("NEW" + sound("A1", 248)).set("C5", "=NEW");
+        first.refuses("9 remove of the first row that makes 251 bytes of a name", remove(false, 0, 1), FULL);
+        first.refuses("9 remove of the first column that makes 251 bytes of a name", remove(true, 0, 1), FULL);
+        first.refuses("9 remove of all rows", remove(false, 0, 80), FULL);
+
         Scene last = scene().set("A80", "1").set("Z3", "'");
         last.refuses("8 insert where the last row has content", insert(false, 0, 1), FULL);
         last.refuses("8 insert at the last row that has content", insert(false, 79, 1), FULL);

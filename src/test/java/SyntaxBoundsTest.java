@@ -109,6 +109,12 @@ public final class SyntaxBoundsTest {
             broken("=LET(" + no + ",1,2)", 5);
             broken("=LET(X,1," + no + ",2,3)", no.equals("x") || no.equals("_X") ? 9 : 9 + no.length() + 1);
         }
+        broken("=LET(,1,2)", 5);
+        broken("=LET( ,1,2)", 6);
+        broken("=LET(X,1,,2,3)", 9);
+        broken("=LET(X,,2)", 7);
+        broken("=LAMBDA(,1)", 8);
+        broken("=LAMBDA(X,,1)", 10);
         broken("=LET(X+1,2,3)", 6);
         broken("=LET(X:X,2,3)", 6);
         broken("=LET(X(1),2,3)", 6);

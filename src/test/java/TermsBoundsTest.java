@@ -364,6 +364,11 @@ public final class TermsBoundsTest {
         spread("=MID({\"ab\",\"cd\"},{1,2,2},1)", 1, 3, "T:a", "T:d", na);
         spread("=IF({1,0},{1;2;3},9)", 3, 2, "N:1", "N:9", "N:2", "N:9", "N:3", "N:9");
         spread("=IF({1,0,1},{7,8},9)", 1, 3, "N:7", "N:9", na);
+        spread("=IF({1,0},IF(1,2,3),IF(0,4,5))", 1, 2, "N:2", "N:5");
+        spread("=IF({1,0},IFERROR(#N/A,2),CHOOSE(2,4,5))", 1, 2, "N:2", "N:5");
+        spread("=IF(IF({1,0},0,1),IF({1,0},2,3),4)", 1, 2, "N:4", "N:3");
+        spread("=IFERROR({1,#REF!},IF(1,2,3))", 1, 2, "N:1", "N:2");
+        spread("=IFERROR({1,#REF!},IFERROR(#N/A,3))", 1, 2, "N:1", "N:3");
         spread("=IFERROR({1,#REF!},{5;6})", 2, 2, "N:1", "N:5", "N:1", "N:6");
         spread("={#REF!,1}+{#NUM!,#NUM!}", 1, 2, "E:#REF!", "E:#NUM!");
         worth("=COLUMNS({1,2,3}+{1,2})", "N:3");
@@ -496,6 +501,17 @@ public final class TermsBoundsTest {
             b.due("worked out", () -> b.grid.count(4), 2);
             b.dueValue("A1", "N:5");
         }
+        Bench gone = new Bench("hangs no longer");
+        gone.with("A1", "=K", "A2", "=A1", "A3", "=B9");
+        gone.with("A1", "5", "A3", "6");
+        gone.name("K=1");
+        gone.due("worked out", () -> gone.grid.count(4), 0);
+        gone.with("A1", "=7", "A3", "=8");
+        gone.name("K=2");
+        gone.due("worked out", () -> gone.grid.count(4), 0);
+        gone.with("B9", "1");
+        gone.due("worked out", () -> gone.grid.count(4), 0);
+        gone.dueValue("A2", "N:7");
         Bench k = new Bench("a name stands for no cell");
         k.with("A1", "TRUE", "A2", "=SUM(K)", "A3", "=SUM(A1)", "A4", "=SUM(T)");
         k.name("K=A1");
