@@ -2554,6 +2554,9 @@ public final class GridReckoner {
         }
 
         private long table(Fn fn, long[] stack, int base) {
+            if (fn == Fn.VLOOKUP && isBeyond(stack[base + 1], stack[base + 2])) {
+                return REF_ERROR;
+            }
             long early = tidy(fn.shape, stack, base);
             if (early != EMPTY) {
                 return early;
@@ -2752,18 +2755,25 @@ public final class GridReckoner {
             return pickedCount == 0 ? CALC_ERROR : pickedRows(a);
         }
 
+        /** Whether n is none of a's columns, which goes before all errors but those that leave a or n unknown. */
+        private boolean isBeyond(long a, long n) {
+            long number = Val.toNumber(store.single(n));
+            if (Val.isError(number) || Val.isError(Val.lone(a))) {
+                return false;
+            }
+            return Val.cut(number) < 1 || Val.cut(number) > Val.columns(a);
+        }
+
+        /** What is beyond a's columns has been seen to before. */
         private long lookUp(long x, long a, long n) {
             long number = Val.toNumber(n);
             if (Val.isError(number)) {
                 return number;
             }
-            long column = Val.cut(number);
-            if (column < 1 || column > Val.columns(a)) {
-                return REF_ERROR;
-            }
+            int column = (int) Val.cut(number) - 1;
             for (int row = 0; row < Val.rows(a); row++) {
                 if (same(x, store.item(a, row * Val.columns(a)))) {
-                    return store.item(a, row * Val.columns(a) + (int) column - 1);
+                    return store.item(a, row * Val.columns(a) + column);
                 }
             }
             return NA_ERROR;

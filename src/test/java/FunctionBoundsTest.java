@@ -136,6 +136,10 @@ public final class FunctionBoundsTest {
         {"=VLOOKUP(2,A1:B4,0.9999)", "E:#REF!"}, {"=VLOOKUP(2,A1:B4,-1)", "E:#REF!"}, {"=VLOOKUP(99,A1:B4,2)", "E:#N/A"}, {"=VLOOKUP(99,A1:B4,3)", "E:#REF!"}, {"=VLOOKUP(99,A1:B4,0)", "E:#REF!"},
         {"=VLOOKUP(1,{1,2;1,3},2)", "N:2"}, {"=VLOOKUP(7,7,1)", "N:7"}, {"=VLOOKUP(7,7,2)", "E:#REF!"}, {"=VLOOKUP(8,7,1)", "E:#N/A"}, {"=VLOOKUP({2,1},A1:B4,{2,9})", "N:20"},
         {"=VLOOKUP(1,{#N/A,2;1,3},2)", "N:3"}, {"=VLOOKUP(1,{1,#NUM!},2)", "E:#NUM!"}, {"=VLOOKUP(1,A1:B4,\"\")", "E:#VALUE!"},
+        {"=VLOOKUP(#N/A,A1:B4,3)", "E:#REF!"}, {"=VLOOKUP(#N/A,A1:B4,0)", "E:#REF!"}, {"=VLOOKUP(#N/A,A1:B4,2)", "E:#N/A"}, {"=VLOOKUP(LAMBDA(1),A1:B4,3)", "E:#REF!"},
+        {"=VLOOKUP(LAMBDA(1),A1:B4,2)", "E:#CALC!"}, {"=VLOOKUP({#NUM!,1},A1:B4,3)", "E:#REF!"}, {"=VLOOKUP(#N/A,A1:B4,#NUM!)", "E:#N/A"}, {"=VLOOKUP(1,A1:B4,#NUM!)", "E:#NUM!"},
+        {"=VLOOKUP(#N/A,A1:B4,\"\")", "E:#N/A"}, {"=VLOOKUP(1,#NUM!,3)", "E:#NUM!"}, {"=VLOOKUP(#N/A,#NUM!,3)", "E:#N/A"}, {"=VLOOKUP(1,LAMBDA(1),3)", "E:#CALC!"},
+        {"=VLOOKUP(1,{#NUM!},2)", "E:#REF!"}, {"=VLOOKUP(1,A1:B4,{3,1})", "E:#REF!"}, {"=VLOOKUP(1,A1:B4,LAMBDA(1))", "E:#CALC!"}, {"=VLOOKUP(1,A1:B4,Z9)", "E:#REF!"}, {"=VLOOKUP(1,A1:B4,TRUE)", "N:1"},
         // SUMIF: the same rows and columns
         {"=SUMIF({1,2},2,{5,6})", "N:6"}, {"=SUMIF({1,2},3,{5,6})", "N:0"}, {"=SUMIF({1,2},2,{5;6})", "E:#VALUE!"}, {"=SUMIF({1,2},2,{5,6,7})", "E:#VALUE!"}, {"=SUMIF({1,2;3,4},2,{5,6})", "E:#VALUE!"},
         {"=SUMIF(1,1,{7})", "N:7"}, {"=SUMIF({1,1,1,1,#N/A},1,{5,TRUE,\"6\",#REF!,9})", "N:5"}, {"=SUMIF(A1:A6,2,B1:B6)", "N:20"}, {"=SUMIF({1,2},#N/A,{5;6})", "E:#N/A"}, {"=SUMIF(1,{1,2},7)", "N:7"},

@@ -1508,6 +1508,11 @@ final class Oracle {
                 args.set(k, single(args.get(k)));
             }
         }
+        if (f.equals("VLOOKUP") && !(args.get(1) instanceof Err) && !(args.get(1) instanceof Fun)
+                && number(args.get(2)) instanceof BigInteger n
+                && (cut(n) < 1 || cut(n) > columns(args.get(1)))) {
+            return new Err(3);
+        }
         for (int k = 0; k < args.size(); k++) {
             if (args.get(k) instanceof Err) {
                 return args.get(k);
@@ -1563,9 +1568,6 @@ final class Oracle {
                 Object n = number(c);
                 if (n instanceof Err) {
                     return n;
-                }
-                if (cut(n) < 1 || cut(n) > columns(b)) {
-                    return new Err(3);
                 }
                 for (int i = 0; i < rows(b); i++) {
                     if (same(a, at(b, i, 0))) {
