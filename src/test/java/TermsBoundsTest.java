@@ -309,6 +309,11 @@ public final class TermsBoundsTest {
             b.with("A1", "=\"ab\"&\"cd\"&N" + k + "_&N" + (21 - k) + "_");
             b.dueValue("A1", "T:abcdname " + k + "name " + (21 - k));
         }
+        b.due("a text that is refused", b.put("A1", "=\"" + "x".repeat(1997) + "\""), FULL);
+        for (int k = 1; k <= 20; k++) {
+            b.with("A1", "=N" + k + "_");
+            b.dueValue("A1", "T:name " + k);
+        }
         Bench c = new Bench("texts of cells");
         String sixty = "0123456789".repeat(6);
         c.with("Z80", sixty, "Y80", sixty, "A1", "'a", "A2", "=FIND(2,123456)&FIND(TRUE,TRUE)&LEN(-12345.6789)", "A3", "=Z80&\"\"", "B1", "=UPPER(A1)&A1");
@@ -324,6 +329,39 @@ public final class TermsBoundsTest {
         c.dueValue("C2", "E:#VALUE!");
         c.dueValue("C3", "T:ab|");
         c.dueValue("C4", "T:ab");
+    }
+
+    /** Every cell has a text, and formulas and names come with texts of their own. */
+    private static void textsOfAFullSheet() {
+        String sixty = "0123456789".repeat(6);
+        Bench b = new Bench("texts of a full sheet");
+        b.with("A1", sixty);
+        for (int k = 1; k < 80; k *= 2) {
+            b.grid.copy(0, 0, Math.min(k, 80 - k), 1, k, 0);
+        }
+        for (int k = 1; k < 26; k *= 2) {
+            b.grid.copy(0, 0, 80, Math.min(k, 26 - k), 0, k);
+        }
+        for (int k = 1; k <= 20; k++) {
+            b.name("N" + k + "_=\"" + "n".repeat(59) + (char) ('a' + k) + "\"");
+        }
+        b.with("A1", "=UPPER(\"" + "y".repeat(60) + "\")", "A2", "=LEFT(N20_,59)&\"z\"");
+        b.dueValue("A1", "T:" + "Y".repeat(60));
+        b.dueValue("A2", "T:" + "n".repeat(59) + "z");
+        for (int cell : new int[] {1, 1040, 1969, 1970, 2047, 2048, 2049, 2076, 2077, 2078, 2079}) {
+            b.dueValue(Bench.cell(cell / 26, cell % 26), "T:" + sixty);
+        }
+    }
+
+    /** About as many steps as a name of 250 bytes can take, and names before and behind it. */
+    private static void longNames() {
+        Bench b = new Bench("long names");
+        b.name("BEFORE=1");
+        b.name("LONG=CHOOSE(1,2)" + "+CHOOSE(1,2)".repeat(19));
+        b.name("BEHIND=3");
+        b.name("SIGNS=" + "-".repeat(248) + "5");
+        b.with("A1", "=BEFORE&\"|\"&LONG&\"|\"&BEHIND&\"|\"&SIGNS&\"|\"&LONG");
+        b.dueValue("A1", "T:1|40|3|5|40");
     }
 
     private static void namesAndAreas() {
@@ -691,6 +729,8 @@ public final class TermsBoundsTest {
         errors();
         names();
         textsApart();
+        textsOfAFullSheet();
+        longNames();
         namesAndAreas();
         unlikeArrays();
         wholeArrays();
