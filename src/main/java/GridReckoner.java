@@ -2438,6 +2438,7 @@ public final class GridReckoner {
         private final long[] sortKey = new long[ARRAY_MOST];
         private int pickedCount;
         private long total;
+        private long fractions;
         private int seen;
         private boolean over;
         private long bad;
@@ -2449,6 +2450,7 @@ public final class GridReckoner {
         /** SUM and its like; cells tells which of the n values stand for a cell. */
         private long fold(Fn fn, long[] stack, int base, int n, int cells) {
             total = 0;
+            fractions = 0;
             seen = 0;
             over = false;
             bad = EMPTY;
@@ -2493,8 +2495,11 @@ public final class GridReckoner {
         private void gather(Fn fn, long n) {
             switch (fn) {
                 case SUM:
-                case AVERAGE:
                     hold(Val.number(total + n));
+                    break;
+                case AVERAGE:
+                    total += n / UNIT;
+                    fractions += n % UNIT;
                     break;
                 case PRODUCT:
                     hold(Ops.product(seen == 1 ? UNIT : total, n));
@@ -2530,10 +2535,22 @@ public final class GridReckoner {
                 case OR:
                     return Val.truth(total > 0);
                 case AVERAGE:
-                    return over ? NUM_ERROR : Ops.quotient(total, seen * UNIT);
+                    return average(seen);
                 default:
                     return over ? NUM_ERROR : Val.number(total);
             }
+        }
+
+        /** An average is never too great, though its sum may be: whole parts and fractions are summed apart. */
+        private long average(long n) {
+            if (n == 0) {
+                return DIV_ERROR;
+            }
+            long rest = total % n * UNIT + fractions;
+            long below = total / n * UNIT + Math.floorDiv(rest, n);
+            long twice = 2 * Math.floorMod(rest, n);
+            boolean up = below < 0 ? twice > n : twice >= n;
+            return Val.number(up ? below + 1 : below);
         }
 
         /** Brings what lies on the stack into the shape; answers what is the result at once, else EMPTY. */

@@ -1469,15 +1469,16 @@ final class Oracle {
                 }
                 return p;
             }
+            case "AVERAGE": {
+                BigInteger exact = taken.stream().map(v -> (BigInteger) v).reduce(BigInteger.ZERO, BigInteger::add);
+                return taken.isEmpty() ? new Err(1) : divided(exact, BigInteger.valueOf(taken.size()));
+            }
             default: {
                 Object s = BigInteger.ZERO;
                 for (Object v : taken) {
                     s = s instanceof Err ? s : arithmetic("+", List.of(s, v));
                 }
-                if (f.equals("SUM") || s instanceof Err) {
-                    return s;
-                }
-                return arithmetic("/", List.of(s, BigInteger.valueOf(taken.size()).multiply(UNIT)));
+                return s;
             }
         }
     }
